@@ -603,7 +603,6 @@ public final class TypeDesigner {
         int addEmptyGlyph(int code) {
             int glyph = glyphs;
             codes.put(glyph, code);
-            contourCounts.put(glyph, 0);
             glyphs = glyph + 1;
             return glyph;
         }

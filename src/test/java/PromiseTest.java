@@ -59,6 +59,7 @@ public final class PromiseTest {
         undo();
         save();
         restore();
+        fullDesign();
         c.end();
     }
 
@@ -257,6 +258,9 @@ public final class PromiseTest {
         c.due("a left edge above 0", 500, () -> x.glyph(2, 3));
         x.addContour(0, -100, 0, 50, 10);
         c.due("a right edge below 0", -50, () -> x.glyph(0, 4));
+        read(x, "A(0,0 10,0 5,9)(-7,0 9,0 5,9)(22,0 9,0 5,9)");
+        c.due("a left edge at the first point of a later contour", -7, () -> x.glyph(0, 3));
+        c.due("a right edge at the first point of a later contour", 22, () -> x.glyph(0, 4));
     }
 
     private void find() {
@@ -405,6 +409,8 @@ public final class PromiseTest {
         c.due("at the end", 0, () -> x.followers(1, 0));
         x.setSide(0, 1, 0);
         c.due("after a rule is gone", 1, () -> x.followers(0, 0));
+        x.follow(0, 0, 2, 1, 0);
+        c.due("the first sidebearing and its follower", 2, () -> x.followers(2, 1));
         c.fails("followers(3, 0)", INDEX, () -> x.followers(3, 0));
         c.fails("followers(-1, 0)", INDEX, () -> x.followers(-1, 0));
         c.fails("followers(0, 2)", INDEX, () -> x.followers(0, 2));
@@ -485,6 +491,11 @@ public final class PromiseTest {
         c.due("the kern for classes stays", 7, () -> x.dropKern(false, 0, 1));
         c.due("account(4)", 0, () -> x.account(4));
         c.due("account(5)", 0, () -> x.account(5));
+        c.fails("classes again", MISSING, () -> x.dropKern(false, 0, 1));
+        x.setClass(0, true, 0);
+        x.setClass(0, false, 1);
+        c.due("no kern is left for the classes", 0, () -> x.kern(0, 0));
+        c.due("no reason is left", 0, () -> x.why(0, 0));
         x.kernPair(1, 0, 3);
         x.kernClasses(1, 0, 3);
         for (int far : new int[] {-1, 24, 6, MIN, MAX, -24}) {
@@ -514,6 +525,16 @@ public final class PromiseTest {
         c.due("a glyph with itself", 8, () -> x.kern(2, 2));
         x.setClass(1, false, 4);
         c.due("another class", 0, () -> x.kern(0, 1));
+        for (int kern = -300; kern <= 300; kern++) {
+            int told = kern;
+            x.kernPair(2, 1, kern);
+            c.due("a kern of " + kern, kern, () -> x.kern(2, 1));
+            c.due("why it is " + kern, 2, () -> x.why(2, 1));
+            x.kernClasses(2, 3, kern);
+            x.setClass(1, false, 3);
+            c.due("a kern of classes of " + kern, told, () -> x.kern(0, 1));
+            c.due("why it is that", 1, () -> x.why(0, 1));
+        }
         c.fails("kern(3, 0)", INDEX, () -> x.kern(3, 0));
         c.fails("kern(0, 3)", INDEX, () -> x.kern(0, 3));
         c.fails("kern(-1, 0)", INDEX, () -> x.kern(-1, 0));
@@ -647,6 +668,19 @@ public final class PromiseTest {
         c.due("in the second contour", 1, () -> bool(x.isBlack(0, 10, 1, 0)));
         x.addContour(0, 70, 10, 150, 200);
         c.due("in two contours", 0, () -> bool(x.isBlack(0, 10, 1, 1)));
+        // 643 * 7 is 4501, and the middle of row 4 on a grid of 7 lies at 4500 / 7.
+        int[][] heights = {{643, 1000, 0}, {642, 1000, 1}, {0, 643, 1}, {0, 642, 0}};
+        for (int[] row : heights) {
+            TypeDesigner y = glyphs(1);
+            y.addContour(0, 0, row[0], 1000, row[1] - row[0]);
+            c.due("from " + row[0] + " to " + row[1], row[2], () -> bool(y.isBlack(0, 7, 3, 4)));
+            TypeDesigner z = glyphs(1);
+            z.addContour(0, row[0], 0, row[1] - row[0], 1000);
+            c.due("columns from " + row[0] + " to " + row[1], row[2], () -> bool(z.isBlack(0, 7, 4, 3)));
+        }
+        read(x, "B(300,0 0,300 0,0)");
+        c.due("left of a first side that falls to the right", 1, () -> bool(x.isBlack(1, 10, 0, 0)));
+        c.due("right of it", 0, () -> bool(x.isBlack(1, 10, 2, 1)));
         read(x, "B(0,0 300,0 0,300)");
         int[][] triangle = {{0, 0, 1}, {1, 0, 1}, {2, 0, 0}, {1, 1, 0}, {0, 1, 1}, {0, 2, 0}};
         for (int[] row : triangle) {
@@ -765,6 +799,11 @@ public final class PromiseTest {
         c.due("one glyph without tracking", 510, () -> x.proofWidth());
         take(x, "A A");
         c.due("no kern over a space", 510 + 250 + 510, () -> x.proofWidth());
+        // A space is in no class, not in class 0 either.
+        x.setClass(0, true, 0);
+        x.setClass(0, false, 0);
+        x.kernClasses(0, 0, 99);
+        c.due("no kern of classes with a space", 510 + 250 + 510, () -> x.proofWidth());
     }
 
     private void position() {
@@ -815,6 +854,8 @@ public final class PromiseTest {
                 c.due("line(1700, " + i + ", " + k + ")", wants[i][k], () -> x.line(1700, line, what));
             }
         }
+        c.due("three words", 3, () -> x.line(100000, 0, 2));
+        c.due("their width", 2760, () -> x.line(100000, 0, 0));
         c.due("an overfull line", 860, () -> x.line(1, 0, 0));
         c.due("the third line", 8, () -> x.line(1, 2, 1));
         x.setProof(-100, 50);
@@ -839,6 +880,27 @@ public final class PromiseTest {
         c.fails("leastMeasure(61)", ARGUMENT, () -> x.leastMeasure(61));
         measureThatIsNotSufficientForMore();
         measureOutOfRange();
+        measureOfManyWords();
+    }
+
+    private void measureOfManyWords() {
+        TypeDesigner x = glyphs(24);
+        for (int i = 0; i < 24; i++) {
+            x.setSide(i, 0, 16 * i - 100);
+            x.setSide(i, 1, 7 * i * i % 400);
+        }
+        take(x, "A B C D E F G H I J K L M N O P Q R S T U V W X A C E G I K");
+        int width = x.proofWidth();
+        c.due("all 30 words in a line", width, () -> x.leastMeasure(1));
+        c.due("one word in each line", 1, () -> x.leastMeasure(30));
+        for (int i = 2; i < 30; i++) {
+            int most = i;
+            int want = 1;
+            while (x.lines(want) > most) {
+                want++;
+            }
+            c.due("leastMeasure(" + most + ")", want, () -> x.leastMeasure(most));
+        }
     }
 
     /** With negative widths a greater measure can give more lines, so the least one need not be in the order. */
@@ -1060,8 +1122,11 @@ public final class PromiseTest {
         TypeDesigner x = twoLetters();
         x.kernClasses(0, 0, 5);
         x.addStem(0, 10, 20);
+        x.addStem(0, 50, 70);
+        x.follow(1, 0, 1, 1, 7);
         Runnable[] changes = {() -> x.addGlyph(90), () -> x.addContour(0, 5, 5, 5, 5), () -> x.movePoint(0, 0, 0, -9, 0),
             () -> x.shift(0, 3, 4), () -> x.setSide(0, 0, 51), () -> x.follow(0, 1, 1, 0, 9),
+            () -> x.follow(1, 0, 1, 1, 8), () -> x.setSide(1, 0, 8), () -> x.addStem(0, -9, 0),
             () -> x.setClass(0, true, 1), () -> x.setClass(0, false, 1), () -> x.kernClasses(0, 0, 6),
             () -> x.kernClasses(0, 1, 6), () -> x.kernPair(0, 1, 8), () -> x.kernPair(1, 1, 8),
             () -> x.dropKern(true, 0, 1), () -> x.dropKern(false, 0, 0), () -> x.addStem(0, 30, 40),
@@ -1099,7 +1164,7 @@ public final class PromiseTest {
         c.fails("kernPair", ARGUMENT, () -> x.kernPair(0, 0, 301));
         c.fails("dropKern", MISSING, () -> x.dropKern(true, 1, 1));
         c.fails("addStem", STATE, () -> x.addStem(0, 10, 20));
-        c.fails("removeStem", INDEX, () -> x.removeStem(0, 1));
+        c.fails("removeStem", INDEX, () -> x.removeStem(0, 2));
         c.fails("setProof", ARGUMENT, () -> x.setProof(201, 50));
         c.fails("readGlyph", ARGUMENT, () -> x.readGlyph());
         c.isDue("the design stays", true, before.equals(describe(x)));
@@ -1142,6 +1207,12 @@ public final class PromiseTest {
         y.addGlyph(65);
         y.restore();
         c.due("an empty design can be saved", 0, () -> y.account(0));
+        TypeDesigner z = glyphs(1);
+        z.save();
+        z.undo();
+        z.addGlyph(99);
+        z.restore();
+        c.due("the code that was saved", 0, () -> z.find(65));
     }
 
     private void restore() {
@@ -1155,11 +1226,14 @@ public final class PromiseTest {
         x.setClass(1, false, 2);
         x.kernClasses(1, 2, 4);
         x.addStem(1, 5, 6);
+        x.follow(1, 0, 1, 1, -20);
         String saved = describe(x);
         x.save();
         x.setProof(0, 250);
         x.shift(0, 1, 1);
         x.removeStem(1, 0);
+        x.addStem(1, 55, 66);
+        x.follow(1, 0, 1, 1, -21);
         x.setSide(0, 0, 0);
         x.dropKern(false, 1, 2);
         x.dropKern(true, 0, 1);
@@ -1176,6 +1250,84 @@ public final class PromiseTest {
         x.addContour(1, 7, 7, 7, 7);
         x.restore();
         c.isDue("the snapshot is kept", true, saved.equals(describe(x)));
+    }
+
+    /** All of the document's limits are reached at once, and no glyph answers for another one. */
+    private void fullDesign() {
+        TypeDesigner x = glyphs(24);
+        for (int glyph = 0; glyph < 24; glyph++) {
+            fillGlyph(x, glyph);
+        }
+        x.follow(0, 0, 23, 1, 200);
+        for (int i = 0; i < 40; i++) {
+            x.kernPair(23 - i / 20, 23 - i % 20, i - 20);
+        }
+        for (int glyph = 0; glyph < 24; glyph++) {
+            askFullGlyph(x, glyph);
+        }
+        for (int i = 0; i < 40; i++) {
+            int at = i;
+            c.due("kern " + i, i - 20, () -> x.kern(23 - at / 20, 23 - at % 20));
+        }
+        accountsAre("a full design", x, 24, 72, 24 * 20, 1, 0, 40, 39, 96);
+        c.due("dropKern of the last pair", -20, () -> x.dropKern(true, 23, 23));
+        String before = describe(x);
+        x.shift(5, 1, -1);
+        c.due("a shifted glyph", 6, () -> x.point(5, 0, 0, false));
+        c.due("the next glyph stays", 6, () -> x.point(6, 0, 0, false));
+        c.due("the next contour moves once", 9, () -> x.point(5, 1, 0, true));
+        x.undo();
+        c.isDue("all is undone", true, before.equals(describe(x)));
+    }
+
+    /** Twelve points in the first contour, and two boxes. */
+    private static void fillGlyph(TypeDesigner x, int glyph) {
+        StringBuilder text = new StringBuilder().append((char) (65 + glyph));
+        for (int i = 0; i < 12; i++) {
+            text.append(i == 0 ? '(' : ' ').append((glyph + i) % 10).append(',').append((3 * i + glyph) % 9);
+        }
+        read(x, text.append(')').toString());
+        x.addContour(glyph, glyph, 2 * glyph, 100 + glyph, 200);
+        x.addContour(glyph, 3 * glyph, 4 * glyph, 300 + glyph, 400);
+        x.setSide(glyph, 0, 2 * glyph);
+        x.setSide(glyph, 1, -3 * glyph);
+        x.setClass(glyph, true, glyph % 6);
+        x.setClass(glyph, false, glyph % 5);
+        for (int stem = 0; stem < 4; stem++) {
+            x.addStem(glyph, 100 * stem + glyph, 100 * stem + 2 * glyph + 1);
+        }
+    }
+
+    private void askFullGlyph(TypeDesigner x, int glyph) {
+        c.due("code of " + glyph, 65 + glyph, () -> x.glyph(glyph, 0));
+        for (int i = 0; i < 12; i++) {
+            int point = i;
+            c.due("x of " + glyph + ", " + i, (glyph + i) % 10, () -> x.point(glyph, 0, point, false));
+            c.due("y of " + glyph + ", " + i, (3 * i + glyph) % 9, () -> x.point(glyph, 0, point, true));
+        }
+        c.due("points of " + glyph, 12, () -> x.points(glyph, 0));
+        c.due("points of the second contour", 4, () -> x.points(glyph, 1));
+        c.due("x of the second contour", glyph, () -> x.point(glyph, 1, 3, false));
+        c.due("y of the second contour", 2 * glyph + 200, () -> x.point(glyph, 1, 3, true));
+        c.due("x of the third contour", 4 * glyph + 300, () -> x.point(glyph, 2, 1, false));
+        c.due("y of the third contour", 4 * glyph, () -> x.point(glyph, 2, 1, true));
+        c.due("left side", glyph == 0 ? -3 * 23 + 200 : 2 * glyph, () -> x.side(glyph, 0, 0));
+        c.due("right side", -3 * glyph, () -> x.side(glyph, 1, 0));
+        c.due("first class", glyph % 6, () -> x.glyph(glyph, 6));
+        c.due("second class", glyph % 5, () -> x.glyph(glyph, 7));
+        for (int i = 0; i < 4; i++) {
+            int stem = i;
+            c.due("left end of " + i, 100 * i + glyph, () -> x.stem(glyph, stem, false));
+            c.due("right end of " + i, 100 * i + 2 * glyph + 1, () -> x.stem(glyph, stem, true));
+        }
+        int sum = 2 * (100 + glyph) * 200 + 2 * (300 + glyph) * 400;
+        int twelve = 0;
+        for (int i = 0; i < 12; i++) {
+            int next = (i + 1) % 12;
+            twelve += (glyph + i) % 10 * ((3 * next + glyph) % 9) - (glyph + next) % 10 * ((3 * i + glyph) % 9);
+        }
+        int want = sum + twelve;
+        c.due("area of " + glyph, want, () -> x.glyph(glyph, 9));
     }
 
     /** All that can be asked of a design, so that two designs can be compared. */
@@ -1196,11 +1348,12 @@ public final class PromiseTest {
         for (int classes = 0; classes < 36; classes++) {
             text.append(classKern(x, classes / 6, classes % 6)).append(' ');
         }
-        int space = x.setProof(0, 250);
-        x.undo();
         type(x, "AA");
         x.takeProof();
-        return text.append(space).append(' ').append(x.proofWidth()).toString();
+        text.append(x.proofWidth()).append(' ');
+        int space = x.setProof(0, 250);
+        x.undo();
+        return text.append(space).toString();
     }
 
     private static String classKern(TypeDesigner x, int first, int second) {
