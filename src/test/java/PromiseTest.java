@@ -678,6 +678,10 @@ public final class PromiseTest {
             z.addContour(0, row[0], 0, row[1] - row[0], 1000);
             c.due("columns from " + row[0] + " to " + row[1], row[2], () -> bool(z.isBlack(0, 7, 4, 3)));
         }
+        read(x, "B(500,643 1000,1000 0,1000)");
+        c.due("a point at 643 alone", 0, () -> bool(x.isBlack(1, 7, 1, 4)));
+        read(x, "B(500,643 0,0 1000,0)");
+        c.due("a point above the middle", 1, () -> bool(x.isBlack(1, 7, 3, 4)));
         read(x, "B(300,0 0,300 0,0)");
         c.due("left of a first side that falls to the right", 1, () -> bool(x.isBlack(1, 10, 0, 0)));
         c.due("right of it", 0, () -> bool(x.isBlack(1, 10, 2, 1)));
@@ -903,32 +907,27 @@ public final class PromiseTest {
         }
     }
 
-    /** With negative widths a greater measure can give more lines, so the least one need not be in the order. */
+    /** With negative advances a greater measure can give more lines, so it takes more than halving to find the least one. */
     private void measureThatIsNotSufficientForMore() {
-        TypeDesigner x = glyphs(3);
+        TypeDesigner x = glyphs(4);
         x.setProof(0, 50);
         x.addContour(0, 0, 0, 100, 100);
         x.setSide(1, 0, -200);
         x.setSide(1, 1, -200);
         x.addContour(2, 0, 0, 1000, 100);
-        // A is 200, B is -400, C is 1100 wide, with a space of 50: A A is 450, A B -150.
-        take(x, "A A B C");
-        int least = 0;
-        for (int measure = 1100; measure >= 1; measure--) {
-            if (x.lines(measure) <= 2) {
-                least = measure;
-            }
+        x.addContour(3, 0, 0, 500, 100);
+        // A is 200, B is -400, C is 1100, D is 600 wide, with a space of 50.
+        take(x, "C B A D");
+        int[][] wants = {{499, 3}, {500, 2}, {749, 2}, {750, 3}, {849, 3}, {850, 2}, {1649, 2}, {1650, 1}};
+        for (int[] row : wants) {
+            c.due("lines(" + row[0] + ") with negative advances", row[1], () -> x.lines(row[0]));
         }
-        int want = least;
-        c.due("the least measure for two lines", want, () -> x.leastMeasure(2));
-        int one = 0;
-        for (int measure = 2000; measure >= 1; measure--) {
-            if (x.lines(measure) <= 1) {
-                one = measure;
-            }
-        }
-        int wantOne = one;
-        c.due("the least measure for one line", wantOne, () -> x.leastMeasure(1));
+        c.due("the least measure for two lines", 500, () -> x.leastMeasure(2));
+        c.due("the least measure for one line", 1650, () -> x.leastMeasure(1));
+        x.kernPair(0, 1, -300);
+        take(x, "AB");
+        c.due("a line of negative width", -500, () -> x.line(1, 0, 0));
+        c.due("its least measure", 1, () -> x.leastMeasure(1));
     }
 
     private void measureOutOfRange() {
@@ -1239,6 +1238,7 @@ public final class PromiseTest {
         x.dropKern(true, 0, 1);
         x.setClass(1, false, -1);
         read(x, "C(0,0 1,1 2,0)");
+        take(x, "AB");
         type(x, "A");
         x.restore();
         c.fails("the changes are forgotten", STATE, () -> x.undo());
