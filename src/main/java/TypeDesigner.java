@@ -663,25 +663,22 @@ public final class TypeDesigner {
         }
 
         int least(int glyph, boolean isY) {
-            Row row = isY ? ys : xs;
-            int least = row.get(pointIndex(glyph, 0, 0));
-            for (int contour = 0; contour < contourCount(glyph); contour++) {
-                for (int point = 0; point < pointCount(glyph, contour); point++) {
-                    least = Math.min(least, row.get(pointIndex(glyph, contour, point)));
-                }
-            }
-            return contourCount(glyph) == 0 ? 0 : least;
+            return extreme(glyph, isY ? ys : xs, false);
         }
 
         int greatest(int glyph, boolean isY) {
-            Row row = isY ? ys : xs;
-            int greatest = row.get(pointIndex(glyph, 0, 0));
+            return extreme(glyph, isY ? ys : xs, true);
+        }
+
+        private int extreme(int glyph, Row coordinates, boolean isGreatest) {
+            int extreme = contourCount(glyph) == 0 ? 0 : coordinates.get(pointIndex(glyph, 0, 0));
             for (int contour = 0; contour < contourCount(glyph); contour++) {
                 for (int point = 0; point < pointCount(glyph, contour); point++) {
-                    greatest = Math.max(greatest, row.get(pointIndex(glyph, contour, point)));
+                    int value = coordinates.get(pointIndex(glyph, contour, point));
+                    extreme = isGreatest ? Math.max(extreme, value) : Math.min(extreme, value);
                 }
             }
-            return contourCount(glyph) == 0 ? 0 : greatest;
+            return extreme;
         }
 
         int twiceArea(int glyph, int contour) {
