@@ -535,7 +535,7 @@ public final class TypeDesigner {
         }
     }
 
-    /** A row of numbers with the only array accesses of the program, so that each index is tested. */
+    /** A row of numbers; it is there so that each index is tested in one place. */
     private static final class Row {
         private final int[] cells;
 
