@@ -44,8 +44,8 @@ final class AccountSentences extends Sentences {
 
     private void descriptionOfTexts() {
         description("Texts");
-        sentence("A text of a glyph consists of a character with a code from 33 to 126, and one or more contours, each of "
-                + "which is \"(\", a point, two or more times a space and a point, and \")\".");
+        sentence("A text of a glyph consists of a character with a code from 33 to 126, and one or more contours, "
+                + "each of which is \"(\", a point, two or more times a space and a point, and \")\".");
         test("codes of 33 and 126, and none beyond", () -> {
             faultsAre("!(0,0 1,1 2,0)", -1, "~(0,0 1,1 2,0)", -1, " (0,0 1,1 2,0)", 0, "\u007f(0,0 1,1 2,0)", 0,
                     "\0(0,0 1,1 2,0)", 0, "\u0141(0,0 1,1 2,0)", 0, "\uffff(0,0 1,1 2,0)", 0);
@@ -70,8 +70,8 @@ final class AccountSentences extends Sentences {
 
     private void descriptionOfPoints() {
         description("Texts");
-        sentence("A point is its x, \",\" and its y; a coordinate is a number with 1 to 4 digits that does not begin with "
-                + "0, except for 0 itself, possibly with \"-\" before it, also before 0.");
+        sentence("A point is its x, \",\" and its y; a coordinate is a number with 1 to 4 digits that does not "
+                + "begin with 0, except for 0 itself, possibly with \"-\" before it, also before 0.");
         test("no digit, 1, 4 and 5 digits of an x", () -> faultsAre("A(,0 1,1 2,2)", 2, "A(7,0 1,1 2,2)", -1,
                 "A(1000,0 1,1 2,2)", -1, "A(1234,0 1,1 2,2)", -1, "A(12345,0 1,1 2,2)", 6, "A(10000,0 1,1 2,2)", 6));
         test("no digit, 1, 4 and 5 digits of a y", () -> faultsAre("A(0, 1,1 2,2)", 4, "A(0,7 1,1 2,2)", -1,
@@ -95,7 +95,8 @@ final class AccountSentences extends Sentences {
         description("Texts");
         sentence("A coordinate out of range and a 13th point or 4th contour are no faults of the text.");
         test("coordinates of 1201, -201, 9999 and -9999", () -> {
-            faultsAre("A(1201,0 1,1 2,2)", -1, "A(-201,0 1,1 2,2)", -1, "A(0,1201 1,1 2,2)", -1, "A(0,-201 1,1 2,2)", -1);
+            faultsAre("A(1201,0 1,1 2,2)", -1, "A(-201,0 1,1 2,2)", -1);
+            faultsAre("A(0,1201 1,1 2,2)", -1, "A(0,-201 1,1 2,2)", -1);
             faultsAre("A(9999,0 1,1 2,2)", -1, "A(0,0 1,1 2,-9999)", -1);
         });
         test("13 points and 4 contours", () -> faultsAre(THIRTEEN_POINTS, -1, FOUR_CONTOURS, -1));
@@ -105,8 +106,8 @@ final class AccountSentences extends Sentences {
 
     private void descriptionOfFaultPositions() {
         description("Texts");
-        sentence("The fault position of a text is the index of its first character that cannot continue such a text, or "
-                + "the length of the text if it ends too early.");
+        sentence("The fault position of a text is the index of its first character that cannot continue such a "
+                + "text, or the length of the text if it ends too early.");
         test("an empty text", () -> faultsAre("", 0));
         test("a text that ends too early after each of its characters", () -> {
             String text = "A(-0,10 -1200,0 3,-4)(5,6 7,8 9,0)";
@@ -190,16 +191,18 @@ final class AccountSentences extends Sentences {
 
     private void contentOfAccounts() {
         promise(36);
-        sentence("`what`: 0 for the glyphs, 1 for the contours, 2 for the points, 3 for the sidebearings that follow rules, "
-                + "4 for the kerns for classes, 5 for those for glyphs, 6 for the ordered pairs of glyphs, also of a glyph "
-                + "with itself, whose kern is not 0, 7 for the stems, 8 for the sum of all advances");
+        sentence("`what`: 0 for the glyphs, 1 for the contours, 2 for the points, 3 for the sidebearings that "
+                + "follow rules, 4 for the kerns for classes, 5 for those for glyphs, 6 for the ordered pairs of "
+                + "glyphs, also of a glyph with itself, whose kern is not 0, 7 for the stems, 8 for the sum of all "
+                + "advances");
         test("contours and points that a text has replaced do not count", () -> {
             Calls scene = FURNISHED.then(Designer::takeProof).then(read("A(0,0 1,1 2,0)"));
             answersEach(numbers(3, 2, 7), scene, (x, what) -> x.account(what));
         });
         test("rules that ended do not count, and both sides of a glyph do", () -> {
             answers(0, FURNISHED.then(x -> x.setSide(1, 0, 1)), x -> x.account(3));
-            answers(3, FURNISHED.then(x -> x.follow(2, 0, 2, 1, 0)).then(x -> x.follow(0, 1, 0, 0, 0)), x -> x.account(3));
+            Calls both = FURNISHED.then(x -> x.follow(2, 0, 2, 1, 0)).then(x -> x.follow(0, 1, 0, 0, 0));
+            answers(3, both, x -> x.account(3));
         });
         test("kerns of 0 count as kerns, and not as pairs whose kern is not 0", () -> {
             Calls zero = glyphs(2).then(x -> x.kernPair(0, 0, 0)).then(x -> x.kernClasses(0, 0, 0));
@@ -233,8 +236,8 @@ final class AccountSentences extends Sentences {
 
     private void readGlyph() {
         promise(37);
-        sentence("Reads the text buffer as a text of a glyph: the glyph with this code, which is added if there is none, gets "
-                + "these contours in place of its own; all else of it stays.");
+        sentence("Reads the text buffer as a text of a glyph: the glyph with this code, which is added if there is "
+                + "none, gets these contours in place of its own; all else of it stays.");
         test("added if there is none, with all else at its beginning", () -> {
             Calls scene = FURNISHED.then(Designer::takeProof).then(read("z(1,2 3,4 5,7)"));
             answersEach(numbers('z', 1, 3, 1, 5, 104, -1, -1, 0, 2), scene, (x, what) -> x.glyph(3, what));
@@ -249,7 +252,8 @@ final class AccountSentences extends Sentences {
             answersEach(numbers('A', 1, 3), fewer, (x, what) -> x.glyph(0, what));
             answersEach(numbers('A', 3, 9), fewer.then(read(THREE_CONTOURS)), (x, what) -> x.glyph(0, what));
             answersEach(numbers('A', 1, 12), fewer.then(read(TWELVE_POINTS)), (x, what) -> x.glyph(0, what));
-            answersEach(numbers('A', 1, 3), read(TWELVE_POINTS).then(read("A(1,2 3,4 5,7)")), (x, what) -> x.glyph(0, what));
+            Calls fewest = read(TWELVE_POINTS).then(read("A(1,2 3,4 5,7)"));
+            answersEach(numbers('A', 1, 3), fewest, (x, what) -> x.glyph(0, what));
         });
         test("coordinates of -200, -0, 0 and 1200", () ->
                 answersEach(numbers(-200, -200, 1200, 0, 0, 1200), read("A(-200,-200 1200,-0 0,1200)"),
@@ -274,8 +278,8 @@ final class AccountSentences extends Sentences {
 
     private void allElseStays() {
         promise(37);
-        sentence("Reads the text buffer as a text of a glyph: the glyph with this code, which is added if there is none, gets "
-                + "these contours in place of its own; all else of it stays.");
+        sentence("Reads the text buffer as a text of a glyph: the glyph with this code, which is added if there is "
+                + "none, gets these contours in place of its own; all else of it stays.");
         test("its code, classes, stems, sidebearings, rules and kerns, and the other glyphs", () -> {
             Calls scene = FURNISHED.then(Designer::takeProof);
             Calls changed = scene.then(read("B(20,30 320,30 320,630 20,630)")).then(read("A(1,2 3,4 5,7)"))
@@ -332,8 +336,8 @@ final class AccountSentences extends Sentences {
     private void textsThatDoNotFit() {
         promise(37);
         Calls scene = FURNISHED.then(proof("AB A"));
-        sentence("Throws `IllegalStateException` if a coordinate is out of range, there are too many points or contours, or "
-                + "24 glyphs are kept and none has this code");
+        sentence("Throws `IllegalStateException` if a coordinate is out of range, there are too many points or "
+                + "contours, or 24 glyphs are kept and none has this code");
         test("an x of 1201 and -201, of the first and of the last point", () -> refusesText(STATE, scene,
                 "A(1201,0 1,1 2,2)", "A(-201,0 1,1 2,2)", "A(0,0 1,1 2,2)(0,0 1,1 1201,2)", "A(0,0 1,1 -201,2)"));
         test("a y of 1201 and -201, of the first and of the last point", () -> refusesText(STATE, scene,
@@ -385,7 +389,8 @@ final class AccountSentences extends Sentences {
             for (String text : new String[] {"A(1201,0 1,1 2,2)", THIRTEEN_POINTS, FOUR_CONTOURS}) {
                 answers(-1, fault.then(typed(text)).thenTry(Designer::readGlyph), Designer::faultPosition);
             }
-            answers(-1, FULL.then(fault).then(typed("z(0,0 1,1 2,2)")).thenTry(Designer::readGlyph), Designer::faultPosition);
+            Calls full = FULL.then(fault).then(typed("z(0,0 1,1 2,2)")).thenTry(Designer::readGlyph);
+            answers(-1, full, Designer::faultPosition);
         });
         test("0 for an empty text, and 60 for one that ends too early there", () -> {
             answers(0, NEW.thenTry(Designer::readGlyph), Designer::faultPosition);

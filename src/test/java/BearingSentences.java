@@ -39,8 +39,8 @@ final class BearingSentences extends Sentences {
 
     private void descriptionOfSides() {
         description("Sidebearings");
-        sentence("A glyph has two sides, 0 left and 1 right, and for each side a sidebearing from -200 to 400, "
-                + "at first 50.");
+        sentence("A glyph has two sides, 0 left and 1 right, and for each side a sidebearing from -200 to 400, at "
+                + "first 50.");
         test("at first 50, both", () -> answersEach(numbers(50, 50), glyphs(1), (x, side) -> x.side(0, side, 0)));
         test("-200 and 400 are told, and no int beyond", () ->
                 takesOnly(-200, 400, ARGUMENT, FURNISHED, (x, bearing) -> x.setSide(0, 1, bearing)));
@@ -54,7 +54,8 @@ final class BearingSentences extends Sentences {
             answers(110, glyphs(1).then(x -> x.addContour(0, 900, 0, 10, 10)), x -> x.glyph(0, 5));
             answers(110, glyphs(1).then(x -> x.addContour(0, -150, 0, 10, 10)), x -> x.glyph(0, 5));
         });
-        test("below 0", () -> answers(-400, glyphs(1).then(told(0, 0, -200)).then(told(0, 1, -200)), x -> x.glyph(0, 5)));
+        test("below 0", () ->
+                answers(-400, glyphs(1).then(told(0, 0, -200)).then(told(0, 1, -200)), x -> x.glyph(0, 5)));
         test("with sidebearings of rules, out of the range of those that are told", () ->
                 answers(19400, CHAIN, x -> x.glyph(23, 5)));
     }
@@ -142,7 +143,8 @@ final class BearingSentences extends Sentences {
         promise(12);
         sentence("Lets a sidebearing follow a rule.");
         test("in place of one that was told", () ->
-                answersEach(numbers(-30, 2, 1, 1), FURNISHED.then(rule(0, 0, 2, 1, -10)), (x, what) -> x.side(0, 0, what)));
+                answersEach(numbers(-30, 2, 1, 1), FURNISHED.then(rule(0, 0, 2, 1, -10)),
+                        (x, what) -> x.side(0, 0, what)));
         test("in place of another rule", () -> {
             Calls scene = FURNISHED.then(rule(1, 0, 2, 1, -10));
             answersEach(numbers(-30, 2, 1, 1), scene, (x, what) -> x.side(1, 0, what));
@@ -216,8 +218,8 @@ final class BearingSentences extends Sentences {
             answersEach(numbers(-20, -1, -1, 0), FURNISHED, (x, what) -> x.side(2, 1, what));
             answersEach(numbers(50, -1, -1, 0), FURNISHED, (x, what) -> x.side(2, 0, what));
         });
-        sentence("`what`: 0 for the sidebearing, 1 for the glyph and 2 for the side that it follows, -1 if it is told, "
-                + "3 for the number of rules over which it goes back to one that is told");
+        sentence("`what`: 0 for the sidebearing, 1 for the glyph and 2 for the side that it follows, -1 if it is "
+                + "told, 3 for the number of rules over which it goes back to one that is told");
         test("over no rule, one rule and two rules", () -> {
             Calls scene = FURNISHED.then(rule(2, 1, 1, 0, -200));
             answersEach(numbers(60, -1, -1, 0), scene, (x, what) -> x.side(0, 0, what));
@@ -229,12 +231,15 @@ final class BearingSentences extends Sentences {
         test("-1 if it is told again", () ->
                 answersEach(numbers(3, -1, -1, 0), CHAIN.then(told(23, 1, 3)), (x, what) -> x.side(23, 1, what)));
         test("the rule of the right side of the last glyph", () ->
-                answersEach(numbers(50, 2, 1, 1), glyphs(3).then(rule(0, 1, 2, 1, 0)), (x, what) -> x.side(0, 1, what)));
+                answersEach(numbers(50, 2, 1, 1), glyphs(3).then(rule(0, 1, 2, 1, 0)),
+                        (x, what) -> x.side(0, 1, what)));
         sentence("Returns the number.");
         test("after a row of rules was cut in the middle", () ->
-                answersEach(numbers(7 + 23 * 200, 23, 0, 23), CHAIN.then(told(12, 0, 7)), (x, what) -> x.side(23, 1, what)));
+                answersEach(numbers(7 + 23 * 200, 23, 0, 23), CHAIN.then(told(12, 0, 7)),
+                        (x, what) -> x.side(23, 1, what)));
         sentence("Throws `IndexOutOfBoundsException` if there is no such glyph or side");
-        test("a glyph beyond the last, -1, far ones, and 0 of none", () -> needsGlyph((x, glyph) -> x.side(glyph, 1, 0)));
+        test("a glyph beyond the last, -1, far ones, and 0 of none", () ->
+                needsGlyph((x, glyph) -> x.side(glyph, 1, 0)));
         test("sides 0 and 1, and no other one", () ->
                 takesOnly(0, 1, INDEX, FURNISHED, (x, side) -> x.side(2, side, 3)));
         sentence("Throws `IllegalArgumentException` if what is not from 0 to 3");

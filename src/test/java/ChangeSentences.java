@@ -1,7 +1,8 @@
 /** The sentences on changes and exceptions: promises 39 to 41. */
 final class ChangeSentences extends Sentences {
     /** FURNISHED without changes that are kept, and with an empty buffer; save and restore are in it. */
-    private static final Calls SETTLED = FURNISHED.then(Designer::takeProof).then(Designer::save).then(Designer::restore);
+    private static final Calls SETTLED =
+            FURNISHED.then(Designer::takeProof).then(Designer::save).then(Designer::restore);
 
     /** A call of each sort of change that changes the design. */
     private static final Calls[] CHANGES = {
@@ -9,9 +10,9 @@ final class ChangeSentences extends Sentences {
         x -> x.setSide(0, 0, 61), x -> x.setSide(1, 0, 8), x -> x.follow(0, 1, 1, 1, 9), x -> x.follow(1, 0, 1, 1, 8),
         x -> x.setClass(0, true, 1), x -> x.setClass(0, false, 1), x -> x.setClass(0, true, -1),
         x -> x.kernClasses(2, 3, 6), x -> x.kernClasses(0, 0, 6), x -> x.kernPair(0, 1, 8), x -> x.kernPair(1, 1, 8),
-        x -> x.dropKern(true, 0, 1), x -> x.dropKern(false, 2, 3), x -> x.addStem(0, -9, 0), x -> x.addStem(0, 100, 200),
-        x -> x.removeStem(0, 0), x -> x.setProof(10, 77), x -> x.setProof(11, 300), read("A(0,0 1,1 2,0)"),
-        read("~(0,0 1,1 2,0)")};
+        x -> x.dropKern(true, 0, 1), x -> x.dropKern(false, 2, 3), x -> x.addStem(0, -9, 0),
+        x -> x.addStem(0, 100, 200), x -> x.removeStem(0, 0), x -> x.setProof(10, 77), x -> x.setProof(11, 300),
+        read("A(0,0 1,1 2,0)"), read("~(0,0 1,1 2,0)")};
 
     /** Calls that succeed and leave the design as it is. */
     private static final Calls[] CHANGES_WITHOUT_EFFECT = {
@@ -63,8 +64,8 @@ final class ChangeSentences extends Sentences {
 
     private void descriptionOfChanges() {
         description("Changes");
-        sentence("A change is a successful call of addGlyph, addContour, movePoint, shift, setSide, follow, setClass, "
-                + "kernClasses, kernPair, dropKern, addStem, removeStem, setProof or readGlyph.");
+        sentence("A change is a successful call of addGlyph, addContour, movePoint, shift, setSide, follow, "
+                + "setClass, kernClasses, kernPair, dropKern, addStem, removeStem, setProof or readGlyph.");
         test("each of them changes the design and can be undone, and nothing is left of it", () -> {
             String before = State.ofDesign(SETTLED);
             for (Calls change : CHANGES) {
@@ -139,7 +140,8 @@ final class ChangeSentences extends Sentences {
         });
         test("restore forgets them, though it brings back the same design", () -> {
             refuses(STATE, FURNISHED.then(Designer::save).then(Designer::restore), Designer::undo);
-            refuses(STATE, changes(1).then(Designer::save).then(changesAfter('a', 20)).then(Designer::restore), Designer::undo);
+            Calls many = changes(1).then(Designer::save).then(changesAfter('a', 20));
+            refuses(STATE, many.then(Designer::restore), Designer::undo);
         });
         test("after restore 8 changes are kept again, and no older ones", () -> {
             Calls scene = changes(3).then(Designer::save).then(Designer::restore);
@@ -160,8 +162,8 @@ final class ChangeSentences extends Sentences {
 
     private void descriptionOfTheDesign() {
         description("Changes");
-        sentence("The tracking and the space width belong to the design, the text buffer, the fault position and the proof "
-                + "do not; undo and restore forget the proof.");
+        sentence("The tracking and the space width belong to the design, the text buffer, the fault position and "
+                + "the proof do not; undo and restore forget the proof.");
         test("undo and restore bring back the tracking and the space width", () -> {
             Calls two = proof("  ");
             Calls undone = NEW.then(x -> x.setProof(11, 60)).then(x -> x.setProof(-7, 70)).then(Designer::undo);
@@ -174,8 +176,8 @@ final class ChangeSentences extends Sentences {
             answers(2, changes(2).then(typed("AA")).then(Designer::undo), Designer::takeProof);
             answers(2, changes(2).then(Designer::save).then(typed("AA")).then(Designer::restore), Designer::takeProof);
             answers(60, changes(2).then(typed("A".repeat(60))).then(Designer::undo), Designer::takeProof);
-            answers(0, typed("A").then(changes(2)).then(Designer::save).then(Designer::takeProof).then(Designer::restore),
-                    Designer::takeProof);
+            Calls emptied = typed("A").then(changes(2)).then(Designer::save).then(Designer::takeProof);
+            answers(0, emptied.then(Designer::restore), Designer::takeProof);
         });
         test("undo and restore leave the fault position", () -> {
             Calls fault = changes(2).then(Designer::save).then(typed("A(")).thenTry(Designer::readGlyph);
@@ -187,7 +189,8 @@ final class ChangeSentences extends Sentences {
         });
         test("undo and restore forget the proof, and no earlier one comes back", () -> {
             Calls taken = changes(2).then(proof("A")).then(Designer::save).then(changesAfter('a', 1)).then(proof("AB"));
-            refuses(MISSING, taken.then(Designer::undo), Designer::proofWidth, x -> x.position(0), x -> x.line(1, 0, 0));
+            refuses(MISSING, taken.then(Designer::undo), Designer::proofWidth, x -> x.position(0),
+                    x -> x.line(1, 0, 0));
             refuses(MISSING, taken.then(Designer::restore), Designer::proofWidth, x -> x.position(0));
             answers(0, taken.then(Designer::undo), x -> x.lines(1));
         });
@@ -195,8 +198,10 @@ final class ChangeSentences extends Sentences {
             answers(515, SETTLED.then(proof("A")).thenTry(Designer::undo), Designer::proofWidth);
             answers(100, changes(2).then(proof("A")).thenTry(Designer::restore), Designer::proofWidth);
         });
-        test("changes and save leave the proof", () ->
-                answers(100, changes(2).then(proof("A")).then(changesAfter('a', 9)).then(Designer::save), Designer::proofWidth));
+        test("changes and save leave the proof", () -> {
+            Calls changed = changes(2).then(proof("A")).then(changesAfter('a', 9));
+            answers(100, changed.then(Designer::save), Designer::proofWidth);
+        });
     }
 
     private void descriptionOfExceptions() {
@@ -205,7 +210,8 @@ final class ChangeSentences extends Sentences {
         test("calls that are refused for their numbers", () -> refuses(INDEX, FURNISHED,
                 x -> x.addContour(3, 0, 0, 1, 1), x -> x.movePoint(0, 0, 4, 1, 1), x -> x.shift(-1, 1, 1),
                 x -> x.setSide(0, 2, 1), x -> x.follow(0, 0, 3, 0, 1), x -> x.setClass(3, true, 1),
-                x -> x.kernClasses(6, 0, 1), x -> x.kernPair(0, 3, 1), x -> x.addStem(3, 0, 1), x -> x.removeStem(0, 2)));
+                x -> x.kernClasses(6, 0, 1), x -> x.kernPair(0, 3, 1), x -> x.addStem(3, 0, 1),
+                x -> x.removeStem(0, 2)));
         test("calls that are refused for what they find", () -> {
             refuses(STATE, FULL.then(x -> x.save()), x -> x.addGlyph('z'));
             refuses(STATE, FURNISHED, x -> x.addGlyph('B'), x -> x.addStem(0, 90, 100));
@@ -226,7 +232,8 @@ final class ChangeSentences extends Sentences {
 
     private void firstOfTwoExceptions() {
         description("Exceptions");
-        sentence("If several conditions of a method are fulfilled, the one that is listed first determines the exception.");
+        sentence("If several conditions of a method are fulfilled, the one that is listed first determines the "
+                + "exception.");
         test("promise 3, addContour: no such glyph, and a width of 0", () ->
                 refuses(INDEX, FURNISHED, x -> x.addContour(3, 0, 0, 0, 0), x -> x.addContour(-1, MAX, MAX, MAX, MAX)));
         test("promise 4, movePoint: no such glyph, contour or point, and a coordinate out of range", () ->
@@ -267,7 +274,8 @@ final class ChangeSentences extends Sentences {
 
     private void firstOfTwoExceptionsWithoutRoom() {
         description("Exceptions");
-        sentence("If several conditions of a method are fulfilled, the one that is listed first determines the exception.");
+        sentence("If several conditions of a method are fulfilled, the one that is listed first determines the "
+                + "exception.");
         test("promise 2, addGlyph: a code out of range, and 24 glyphs", () ->
                 refuses(ARGUMENT, FULL, x -> x.addGlyph(32), x -> x.addGlyph(127)));
         test("promise 3, addContour: a width of 0 or a coordinate out of range, and 3 contours", () -> {
@@ -284,7 +292,8 @@ final class ChangeSentences extends Sentences {
             refuses(ARGUMENT, forty, x -> x.kernPair(23, 23, 301));
         });
         test("promise 21, addStem: ends out of range or order, and 4 stems or one that is touched", () -> {
-            refuses(ARGUMENT, FURNISHED, x -> x.addStem(0, -201, 50), x -> x.addStem(0, 50, 50), x -> x.addStem(0, 60, 50));
+            refuses(ARGUMENT, FURNISHED, x -> x.addStem(0, -201, 50), x -> x.addStem(0, 50, 50),
+                    x -> x.addStem(0, 60, 50));
             Calls four = FURNISHED.then(x -> x.addStem(0, 100, 110)).then(x -> x.addStem(0, 120, 130));
             refuses(ARGUMENT, four, x -> x.addStem(0, 700, 700), x -> x.addStem(0, 1100, 1201));
         });
@@ -367,7 +376,8 @@ final class ChangeSentences extends Sentences {
             answers(4, scene.then(undone(8)), x -> x.account(0));
             refuses(STATE, scene.then(undone(8)), Designer::undo);
         });
-        test("undo is no change itself", () -> answersInTurn(numbers(1, 0), changes(3).then(Designer::undo), Designer::undo));
+        test("undo is no change itself", () ->
+                answersInTurn(numbers(1, 0), changes(3).then(Designer::undo), Designer::undo));
     }
 
     private void save() {
@@ -399,9 +409,10 @@ final class ChangeSentences extends Sentences {
         test("later changes and undo do not reach the snapshot", () -> {
             Calls saved = SETTLED.then(Designer::save);
             Calls changed = saved;
-            for (Calls change : new Calls[] {x -> x.shift(0, 5, 5), x -> x.setSide(0, 0, 1), x -> x.setClass(0, true, 5),
-                x -> x.kernPair(0, 1, 7), x -> x.kernClasses(2, 3, 7), x -> x.addStem(0, -5, -4), x -> x.setProof(1, 51),
-                x -> x.addGlyph('z'), x -> x.undo(), x -> x.undo()}) {
+            Calls[] changes = {x -> x.shift(0, 5, 5), x -> x.setSide(0, 0, 1), x -> x.setClass(0, true, 5),
+                x -> x.kernPair(0, 1, 7), x -> x.kernClasses(2, 3, 7), x -> x.addStem(0, -5, -4),
+                x -> x.setProof(1, 51), x -> x.addGlyph('z'), Designer::undo, Designer::undo};
+            for (Calls change : changes) {
                 changed = changed.then(change);
                 same(State.ofDesign(SETTLED), State.ofDesign(changed.then(Designer::restore)));
             }
@@ -431,8 +442,9 @@ final class ChangeSentences extends Sentences {
             same(State.ofDesign(SETTLED), State.ofDesign(undone));
         });
         test("an empty design in place of a full one, and the other way round", () -> {
-            answers(0, NEW.then(Designer::save).then(FULL).then(Designer::restore), x -> x.account(0));
-            answers(23, NEW.then(Designer::save).then(FULL).then(Designer::restore).then(glyphs(23)), x -> x.addGlyph('z'));
+            Calls emptied = NEW.then(Designer::save).then(FULL).then(Designer::restore);
+            answers(0, emptied, x -> x.account(0));
+            answers(23, emptied.then(glyphs(23)), x -> x.addGlyph('z'));
         });
         test("a glyph that was added after save is gone, with its code", () ->
                 refuses(MISSING, changes(2).then(Designer::save).then(changesAfter('a', 1)).then(Designer::restore),

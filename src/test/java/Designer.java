@@ -1,6 +1,6 @@
 /**
- * A TypeDesigner whose calls are counted: what it answers after its 512th call is free, so that no test may ask for it. Calls
- * without an answer answer 0 here.
+ * A TypeDesigner whose calls are counted: what it answers after its 512th call is free, so that no test may ask for it.
+ * Calls without an answer answer 0 here.
  */
 final class Designer {
     private static final int MOST_CALLS = 512;

@@ -68,7 +68,8 @@ public final class FaceTest {
         CHECKS.isDue("public and final", true,
                 Modifier.isPublic(face.getModifiers()) && Modifier.isFinal(face.getModifiers()));
         for (Field field : face.getDeclaredFields()) {
-            CHECKS.isDue("the field " + field.getName() + " is private", true, Modifier.isPrivate(field.getModifiers()));
+            boolean isPrivate = Modifier.isPrivate(field.getModifiers());
+            CHECKS.isDue("the field " + field.getName() + " is private", true, isPrivate);
         }
         for (Method method : face.getDeclaredMethods()) {
             boolean isOpen = Modifier.isPublic(method.getModifiers()) || Modifier.isPrivate(method.getModifiers());
@@ -144,7 +145,7 @@ public final class FaceTest {
         String[] lines = source.split("\n");
         int begin = -1;
         for (int i = 0; i < lines.length; i++) {
-            if (begin < 0 && lines[i].matches(" {4}(?: {4})?\\S.*\\) ?(?:throws .*)?\\{") && !lines[i].contains("class ")) {
+            if (begin < 0 && lines[i].matches(" {4}(?: {4})?\\S.*\\) ?(?:throws .*)?\\{")) {
                 begin = i;
             }
             if (begin >= 0 && lines[i].equals(lines[begin].replaceAll("\\S.*", "") + "}")) {

@@ -118,8 +118,8 @@ final class GlyphSentences extends Sentences {
             answers(0, glyphs(1), x -> x.glyph(0, 1));
             answers(1, box(0, 0, 1, 1), x -> x.glyph(0, 1));
         });
-        sentence("The left and right edge of a glyph are the least and the greatest x of all of its points, "
-                + "0 for an empty one.");
+        sentence("The left and right edge of a glyph are the least and the greatest x of all of its points, 0 for "
+                + "an empty one.");
         test("all points right of 0", () -> {
             answers(300, box(300, 0, 100, 10), x -> x.glyph(0, 3));
             answers(400, box(300, 0, 100, 10), x -> x.glyph(0, 4));
@@ -150,8 +150,8 @@ final class GlyphSentences extends Sentences {
 
     private void descriptionOfAreas() {
         description("Glyphs");
-        sentence("Twice the area of a contour is the sum of x * v - u * y over all points x,y, where u,v is the next "
-                + "point; it is negative if the contour runs clockwise.");
+        sentence("Twice the area of a contour is the sum of x * v - u * y over all points x,y, where u,v is the "
+                + "next point; it is negative if the contour runs clockwise.");
         test("counterclockwise and clockwise", () -> {
             answers(100, read("A(0,0 10,0 0,10)"), x -> x.area(0, 0));
             answers(-100, read("A(0,0 0,10 10,0)"), x -> x.area(0, 0));
@@ -256,10 +256,10 @@ final class GlyphSentences extends Sentences {
 
     private void addContour() {
         promise(3);
-        sentence("Adds a contour in the form of a box, the last one of the glyph: from the lower left corner to the "
-                + "lower right, upper right and upper left one.");
+        sentence("Adds a contour in the form of a box, the last one of the glyph: from the lower left corner to "
+                + "the lower right, upper right and upper left one.");
         test("the corners in this order", () ->
-                answersEach(numbers(10, 20, 40, 20, 40, 60, 10, 60), glyphs(1).then(x -> x.addContour(0, 10, 20, 30, 40)),
+                answersEach(numbers(10, 20, 40, 20, 40, 60, 10, 60), box(10, 20, 30, 40),
                         (x, i) -> x.point(0, 0, i / 2, i % 2 == 1)));
         test("four points", () -> answers(4, box(1, 2, 3, 4), x -> x.points(0, 0)));
         test("it is the last one, and those before it stay", () -> {
@@ -312,8 +312,8 @@ final class GlyphSentences extends Sentences {
         sentence("Throws `IndexOutOfBoundsException` if there is no such glyph");
         test("one beyond the last, -1, far ones, and 0 of none", () ->
                 needsGlyph((x, glyph) -> x.addContour(glyph, 0, 0, 10, 10)));
-        sentence("Throws `IllegalArgumentException` if the width or the height is less than 1, "
-                + "or a coordinate would be out of range");
+        sentence("Throws `IllegalArgumentException` if the width or the height is less than 1, or a coordinate "
+                + "would be out of range");
         test("a width or height of 0 and less", () -> refuses(ARGUMENT, FURNISHED,
                 x -> x.addContour(2, 0, 0, 0, 1), x -> x.addContour(2, 0, 0, 1, 0), x -> x.addContour(2, 0, 0, -1, 1),
                 x -> x.addContour(2, 0, 0, 1, -1), x -> x.addContour(2, 500, 500, -100, -100),
@@ -473,7 +473,8 @@ final class GlyphSentences extends Sentences {
             answers(-200, TWELVE, x -> x.shift(0, -197, -200));
         });
         test("one of dx and dy is too much", () -> refuses(ARGUMENT, TRIANGLE,
-                x -> x.shift(0, 1, 1200), x -> x.shift(0, 1200, 1), x -> x.shift(0, -300, 0), x -> x.shift(0, 0, -300)));
+                x -> x.shift(0, 1, 1200), x -> x.shift(0, 1200, 1), x -> x.shift(0, -300, 0),
+                x -> x.shift(0, 0, -300)));
     }
 
     // ---- promises 6 to 10 ----
@@ -483,9 +484,9 @@ final class GlyphSentences extends Sentences {
         sentence("Returns a number of a glyph.");
         test("an empty one has no edges, points, classes, stems and areas", () ->
                 answersEach(numbers('C', 0, 0, 0, 0, 30, -1, -1, 0, 0), FURNISHED, (x, what) -> x.glyph(2, what)));
-        sentence("`what`: 0 for its code, 1 for its contours, 2 for all of its points, 3 for its left and 4 for its "
-                + "right edge, 5 for its advance, 6 for its first and 7 for its second class, -1 if it is in none, "
-                + "8 for its stems, 9 for twice the sum of the areas of all contours");
+        sentence("`what`: 0 for its code, 1 for its contours, 2 for all of its points, 3 for its left and 4 for "
+                + "its right edge, 5 for its advance, 6 for its first and 7 for its second class, -1 if it is in "
+                + "none, 8 for its stems, 9 for twice the sum of the areas of all contours");
         test("each of them", () -> {
             Calls scene = glyphs(2).then(x -> {
                 x.addContour(1, -20, 5, 100, 10);
@@ -572,7 +573,8 @@ final class GlyphSentences extends Sentences {
             answers(4, TWELVE, x -> x.points(0, 2));
         });
         sentence("Throws `IndexOutOfBoundsException` if there is no such glyph or contour");
-        test("a glyph beyond the last, -1, far ones, and 0 of none", () -> needsGlyph((x, glyph) -> x.points(glyph, 0)));
+        test("a glyph beyond the last, -1, far ones, and 0 of none", () ->
+                needsGlyph((x, glyph) -> x.points(glyph, 0)));
         test("contours 0 and 1 of two, 0 to 2 of three, and no other one", () -> {
             takesOnly(0, 1, INDEX, FURNISHED, (x, contour) -> x.points(0, contour));
             takesOnly(0, 2, INDEX, TWELVE, (x, contour) -> x.points(0, contour));

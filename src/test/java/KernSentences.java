@@ -49,8 +49,8 @@ final class KernSentences extends Sentences {
 
     private void descriptionOfClasses() {
         description("Classes");
-        sentence("There are 6 first classes, for glyphs that stand first in a pair, and 6 second classes, for those "
-                + "that stand second, each numbered from 0.");
+        sentence("There are 6 first classes, for glyphs that stand first in a pair, and 6 second classes, for "
+                + "those that stand second, each numbered from 0.");
         test("first classes 0 to 5, and no other one", () ->
                 takesOnly(0, 5, INDEX, FURNISHED, (x, first) -> x.kernClasses(first, 0, 1)));
         test("second classes 0 to 5, and no other one", () ->
@@ -75,8 +75,8 @@ final class KernSentences extends Sentences {
 
     private void descriptionOfKerns() {
         description("Classes");
-        sentence("A kern from -300 to 300 can be told for each pair of a first and a second class, and for each pair of "
-                + "glyphs; at most 40 of each sort.");
+        sentence("A kern from -300 to 300 can be told for each pair of a first and a second class, and for each "
+                + "pair of glyphs; at most 40 of each sort.");
         test("-300 and 300, and no int beyond", () -> {
             takesOnly(-300, 300, ARGUMENT, FURNISHED, (x, kern) -> x.kernClasses(0, 0, kern));
             takesOnly(-300, 300, ARGUMENT, FURNISHED, (x, kern) -> x.kernPair(0, 0, kern));
@@ -90,8 +90,8 @@ final class KernSentences extends Sentences {
             answers(1, FORTY, x -> x.kernClasses(0, 0, 1));
             answers(1, ALL_CLASSES, x -> x.kernPair(0, 0, 1));
         });
-        sentence("The kern of two glyphs is that told for them, if there is one; otherwise that told for the first class "
-                + "of the first one and the second class of the second one; otherwise 0.");
+        sentence("The kern of two glyphs is that told for them, if there is one; otherwise that told for the first "
+                + "class of the first one and the second class of the second one; otherwise 0.");
         Calls both = glyphs(2).then(into(0, 0, -1)).then(into(1, -1, 0)).then(classes(0, 0, 9)).then(pair(0, 1, 5));
         test("one for them and one for the classes", () -> answers(5, both, x -> x.kern(0, 1)));
         test("one of 0 for them is told, too", () -> answers(0, both.then(pair(0, 1, 0)), x -> x.kern(0, 1)));
@@ -360,8 +360,8 @@ final class KernSentences extends Sentences {
         promise(20);
         sentence("Returns why two glyphs have their kern.");
         test("none for the other way round", () -> answers(0, glyphs(2).then(pair(0, 1, 5)), x -> x.why(1, 0)));
-        sentence("Returns 3 if one is told for them and one for their classes, too; 2 if one is told for them alone; "
-                + "1 if one is told for their classes alone; 0 if none is told.");
+        sentence("Returns 3 if one is told for them and one for their classes, too; 2 if one is told for them "
+                + "alone; 1 if one is told for their classes alone; 0 if none is told.");
         Calls classed = glyphs(2).then(into(0, 0, -1)).then(into(1, -1, 5));
         test("3, also if both are 0", () -> {
             answers(3, FURNISHED, x -> x.why(0, 1));

@@ -58,8 +58,8 @@ final class ProofSentences extends Sentences {
 
     private void descriptionOfSetting() {
         description("Proof lines");
-        sentence("A proof is a text of glyphs and spaces, set with a tracking from -100 to 200, at first 0, and a space "
-                + "width from 50 to 1000, at first 250.");
+        sentence("A proof is a text of glyphs and spaces, set with a tracking from -100 to 200, at first 0, and a "
+                + "space width from 50 to 1000, at first 250.");
         test("a tracking of 0 and a space of 250 at first", () -> {
             answers(500, NEW.then(proof("  ")), Designer::proofWidth);
             answers(250, NEW, x -> x.setProof(7, 70));
@@ -82,8 +82,8 @@ final class ProofSentences extends Sentences {
 
     private void descriptionOfWidths() {
         description("Proof lines");
-        sentence("In a line, each glyph and space is followed by the next one after its advance, plus the tracking, plus "
-                + "the kern if both are glyphs; a space has the space width as its advance.");
+        sentence("In a line, each glyph and space is followed by the next one after its advance, plus the "
+                + "tracking, plus the kern if both are glyphs; a space has the space width as its advance.");
         test("two glyphs with a kern, and the other way round", () -> {
             answers(460, LETTERS.then(proof("AB")), x -> x.position(1));
             answers(400, LETTERS.then(proof("BA")), x -> x.position(1));
@@ -120,7 +120,8 @@ final class ProofSentences extends Sentences {
 
     private void descriptionOfLines() {
         description("Proof lines");
-        sentence("Lines are broken with a measure: the words are the longest rows of glyphs without spaces between them.");
+        sentence("Lines are broken with a measure: the words are the longest rows of glyphs without spaces between "
+                + "them.");
         test("one glyph is a word, also at both ends of the proof", () ->
                 answers(3, LETTERS.then(proof("A B A")), x -> x.line(100000, 0, 2)));
         test("two spaces end a word like one, spaces at both ends make none", () ->
@@ -130,9 +131,9 @@ final class ProofSentences extends Sentences {
             answers(1, scene, x -> x.lines(1));
             answers(1, scene, x -> x.line(1, 0, 2));
         });
-        sentence("The first word is put into the first line; each next word is put into the same line, with one space "
-                + "before it, if the line is then not wider than the measure, and otherwise it is the first word of the "
-                + "next line.");
+        sentence("The first word is put into the first line; each next word is put into the same line, with one "
+                + "space before it, if the line is then not wider than the measure, and otherwise it is the first "
+                + "word of the next line.");
         test("as wide as the measure, and one unit wider", () -> {
             answers(2, WORDS, x -> x.lines(1610));
             answers(3, WORDS, x -> x.lines(1609));
@@ -196,7 +197,8 @@ final class ProofSentences extends Sentences {
         test("spaces of 50 and 1000 are taken; 49, 1001 and all beyond are not", () ->
                 takesOnly(50, 1000, ARGUMENT, FURNISHED, (x, space) -> x.setProof(-100, space)));
         test("if one of them is out of range, the other one is not set", () -> refuses(ARGUMENT, FURNISHED,
-                x -> x.setProof(201, 60), x -> x.setProof(-101, 60), x -> x.setProof(20, 1001), x -> x.setProof(20, 49)));
+                x -> x.setProof(201, 60), x -> x.setProof(-101, 60), x -> x.setProof(20, 1001),
+                x -> x.setProof(20, 49)));
     }
 
     private void append() {
@@ -409,8 +411,8 @@ final class ProofSentences extends Sentences {
             takesOnly(0, 1, MISSING, WORDS, (x, line) -> x.line(1610, line, 2));
             takesOnly(0, 0, MISSING, WORDS, (x, line) -> x.line(100000, line, 1));
         });
-        sentence("`what`: 0 for its width, 1 for the index of its first character in the proof, 2 for the number of its "
-                + "words");
+        sentence("`what`: 0 for its width, 1 for the index of its first character in the proof, 2 for the number "
+                + "of its words");
         test("the width of a line that is wider than the measure", () -> answers(900, WORDS, x -> x.line(1, 2, 0)));
         test("the index of the first glyph and not of a space before it", () -> {
             answers(2, WORDS, x -> x.line(1, 0, 1));
@@ -513,8 +515,8 @@ final class ProofSentences extends Sentences {
                 x.addContour(2, 0, 0, 1000, 100);
                 x.addContour(3, 0, 0, 500, 100);
             }).then(proof("C B A D"));
-            eachIs(scene, new int[][] {{499, 3}, {500, 2}, {749, 2}, {750, 3}, {849, 3}, {850, 2}, {1649, 2}, {1650, 1}},
-                    Designer::lines);
+            eachIs(scene, new int[][] {{499, 3}, {500, 2}, {749, 2}, {750, 3}, {849, 3}, {850, 2}, {1649, 2},
+                {1650, 1}}, Designer::lines);
             eachIs(scene, new int[][] {{1, 1650}, {2, 500}, {3, 1}}, Designer::leastMeasure);
         });
         sentence("Returns the least measure, at least 1.");
@@ -550,7 +552,8 @@ final class ProofSentences extends Sentences {
             answers(99999, wide.then(x -> x.kernPair(21, 22, 99)), x -> x.leastMeasure(1));
             answers(100000, wide.then(x -> x.kernPair(21, 22, 100)), x -> x.leastMeasure(1));
         });
-        test("100001 would be", () -> refuses(MISSING, wide.then(x -> x.kernPair(21, 22, 101)), x -> x.leastMeasure(1)));
+        test("100001 would be", () ->
+                refuses(MISSING, wide.then(x -> x.kernPair(21, 22, 101)), x -> x.leastMeasure(1)));
         test("100001 would be for one line, and two lines need no more than 1", () ->
                 answers(1, wide.then(x -> x.kernPair(21, 22, 101)), x -> x.leastMeasure(2)));
         test("much more would be, for one line and for two", () -> {

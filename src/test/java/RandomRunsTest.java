@@ -137,7 +137,8 @@ public final class RandomRunsTest {
                 int width = pick(1, 1200 - Math.min(900, Math.max(-200, left)));
                 int height = pick(1, 1200 - Math.min(900, Math.max(-200, low)));
                 both("addContour(" + g + ", " + left + ", " + low + ", " + width + ", " + height + ")",
-                        () -> x.addContour(g, left, low, width, height), () -> r.addContour(g, left, low, width, height));
+                        () -> x.addContour(g, left, low, width, height),
+                        () -> r.addContour(g, left, low, width, height));
                 break;
             }
             case 2: case 3:
@@ -216,7 +217,8 @@ public final class RandomRunsTest {
                         () -> r.setClass(g, isFirst, which));
                 break;
             case 2:
-                both("kernClasses(" + first + ", " + second + ", " + kern + ")", () -> x.kernClasses(first, second, kern),
+                both("kernClasses(" + first + ", " + second + ", " + kern + ")",
+                        () -> x.kernClasses(first, second, kern),
                         () -> r.kernClasses(first, second, kern));
                 break;
             case 3: case 4:

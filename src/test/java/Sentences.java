@@ -159,7 +159,7 @@ abstract class Sentences {
         same(State.of(scene), State.of(tried));
     }
 
-    /** Numbers beside the ends, far ones, and some that a cast to a byte, a short or a char would take for right ones. */
+    /** Numbers beside the ends, far ones, and some that a cast to a byte or a short would take for right ones. */
     private static int[] strangeNumbers(int least, int greatest) {
         int[] numbers = new int[2 + STRANGE.length * 2];
         numbers[0] = least - 1;

@@ -21,7 +21,14 @@ public final class SentencesTest {
     public static void main(String[] args) throws IOException {
         Checks checks = new Checks();
         Quotes quotes = new Quotes();
-        Sentences[] parts = {new GlyphSentences(checks, quotes), new BearingSentences(checks, quotes), new KernSentences(checks, quotes), new StemSentences(checks, quotes), new ProofSentences(checks, quotes), new AccountSentences(checks, quotes), new ChangeSentences(checks, quotes)};
+        Sentences[] parts = {
+            new GlyphSentences(checks, quotes),
+            new BearingSentences(checks, quotes),
+            new KernSentences(checks, quotes),
+            new StemSentences(checks, quotes),
+            new ProofSentences(checks, quotes),
+            new AccountSentences(checks, quotes),
+            new ChangeSentences(checks, quotes)};
         for (Sentences part : parts) {
             part.testAll();
         }

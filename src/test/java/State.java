@@ -2,25 +2,37 @@ import java.util.IdentityHashMap;
 import java.util.Map;
 
 /**
- * All that can be asked of an object, as a text, so that two states can be compared. What is asked may change the
- * object, and it takes 512 calls at most, so each part is asked of an object of its own that the same calls have made.
+ * All that can be asked of an object, as a text, so that two states can be compared. As some of it changes the object,
+ * and as no object takes more than 512 calls, more than one is asked; the same calls have made all of them.
  */
 final class State {
     private static final int MOST_CHANGES = 8;
     private static final int MOST_SIGNS = 60;
     private static final Map<Calls, String> KNOWN = new IdentityHashMap<>();
 
+    private static final int MOST_CALLS = 512;
+
     private final Calls scene;
     private final StringBuilder text = new StringBuilder();
+    private Designer asked;
 
     private State(Calls scene) {
         this.scene = scene;
+        asked = scene.made();
+    }
+
+    /** An object of which only such things were asked that leave it as it is, with room for some calls more. */
+    private Designer asked(int calls) {
+        if (asked.calls() + calls > MOST_CALLS) {
+            asked = scene.made();
+        }
+        return asked;
     }
 
     /** All of it. */
     static String of(Calls scene) {
         return KNOWN.computeIfAbsent(scene, key -> new State(key).addDesign().addProof().addBuffer()
-                .addChanges().addSnapshot().add("fault", key.made(), Designer::faultPosition).text.toString());
+                .addChanges().addSnapshot().addFault().text.toString());
     }
 
     /** All but the fault position. */
@@ -28,7 +40,7 @@ final class State {
         return new State(scene).addDesign().addProof().addBuffer().addChanges().addSnapshot().text.toString();
     }
 
-    /** The design alone: without the buffer, the proof, the fault position, the changes that are kept and the snapshot. */
+    /** The design alone: without buffer, proof, fault position, changes that are kept and snapshot. */
     static String ofDesign(Calls scene) {
         return new State(scene).addDesign().text.toString();
     }
@@ -44,7 +56,7 @@ final class State {
     }
 
     private State addDesign() {
-        Designer x = scene.made();
+        Designer x = asked(11);
         for (int i = 0; i <= 8; i++) {
             int what = i;
             add("account " + i, x, y -> y.account(what));
@@ -64,7 +76,7 @@ final class State {
     }
 
     private void addGlyph(int glyph) {
-        Designer x = scene.made();
+        Designer x = asked(30);
         for (int i = 0; i <= 9; i++) {
             int what = i;
             add("glyph " + glyph + ", " + i, x, y -> y.glyph(glyph, what));
@@ -78,14 +90,16 @@ final class State {
             int what = i;
             add("stem " + glyph + ", " + i, x, y -> y.stem(glyph, what / 2, what % 2 == 1));
         }
-        for (int i = 0; i < x.glyph(glyph, 1); i++) {
-            addContour(x, glyph, i);
+        int contours = x.glyph(glyph, 1);
+        for (int i = 0; i < contours; i++) {
+            addContour(asked(40), glyph, i);
         }
     }
 
     private void addContour(Designer x, int glyph, int contour) {
         add("points of " + glyph + ", " + contour, x, y -> y.points(glyph, contour));
-        for (int i = 0; i < x.points(glyph, contour); i++) {
+        int points = x.points(glyph, contour);
+        for (int i = 0; i < points; i++) {
             int point = i;
             add("x", x, y -> y.point(glyph, contour, point, false));
             add("y", x, y -> y.point(glyph, contour, point, true));
@@ -93,7 +107,7 @@ final class State {
     }
 
     private void addKernsOf(int first, int glyphs) {
-        Designer x = scene.made();
+        Designer x = asked(2 * glyphs);
         for (int i = 0; i < glyphs; i++) {
             int second = i;
             add("kern " + first + ", " + i, x, y -> y.kern(first, second));
@@ -110,7 +124,7 @@ final class State {
     }
 
     private State addProof() {
-        Designer x = scene.made();
+        Designer x = asked(80);
         add("proof width", x, Designer::proofWidth);
         for (int i = 0; i < MOST_SIGNS; i++) {
             int index = i;
@@ -143,6 +157,10 @@ final class State {
             text.append(ofDesign(back));
         }
         return this;
+    }
+
+    private State addFault() {
+        return add("fault", asked(1), Designer::faultPosition);
     }
 
     private State addSnapshot() {

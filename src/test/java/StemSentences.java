@@ -3,6 +3,19 @@ final class StemSentences extends Sentences {
     /** Four stems: on a grid of 10 they take the places 0 to 1, 2 to 3, 4 to 5 and 7 to 8. */
     private static final Calls FOUR = stems(20, 30, 31, 32, 33, 160, 700, 790);
 
+    private static final String PLACE =
+            "The place of an x in a glyph on the grid is: for the left end of a stem, round(x * n / 1000), but "
+            + "at least one pixel more than the place of the right end of the stem before; for its right end, the "
+            + "place of its left end plus the rounded length of the stem, but at least 1; for any other x, round(x "
+            + "* n / 1000) plus the place of the end of a stem that is nearest to it from the left minus the "
+            + "rounded value of this end; and only the rounded value if no stem has an end that is less than x.";
+
+    private static final String BLACK =
+            "It is black if a ray from there to greater x crosses the contours of the glyph an odd number of "
+            + "times, where a side from x,y to u,v is crossed if the middle lies at y or above and below v, or at "
+            + "v or above and below y, and the point of the side at this height has an x greater than that of the "
+            + "middle.";
+
     StemSentences(Checks checks, Quotes quotes) {
         super(checks, quotes);
     }
@@ -80,8 +93,8 @@ final class StemSentences extends Sentences {
 
     private void descriptionOfLengths() {
         description("Grids");
-        sentence("On a grid of size n, from 6 to 60, a length of x units is round(x * n / 1000) pixels, where round gives "
-                + "the nearest whole number, and the greater one of two.");
+        sentence("On a grid of size n, from 6 to 60, a length of x units is round(x * n / 1000) pixels, where "
+                + "round gives the nearest whole number, and the greater one of two.");
         test("sizes 6 and 60, and no int beyond", () ->
                 takesOnly(6, 60, ARGUMENT, FURNISHED, (x, size) -> x.place(0, size, 500)));
         test("halves, and one unit less", () ->
@@ -101,11 +114,7 @@ final class StemSentences extends Sentences {
 
     private void descriptionOfPlaces() {
         description("Grids");
-        sentence("The place of an x in a glyph on the grid is: for the left end of a stem, round(x * n / 1000), but at "
-                + "least one pixel more than the place of the right end of the stem before; for its right end, the place "
-                + "of its left end plus the rounded length of the stem, but at least 1; for any other x, round(x * n / "
-                + "1000) plus the place of the end of a stem that is nearest to it from the left minus the rounded value "
-                + "of this end; and only the rounded value if no stem has an end that is less than x.");
+        sentence(PLACE);
         test("a left end without a stem before, also below 0", () -> {
             placesAre(stems(49, 100), 10, new int[][] {{49, 0}});
             placesAre(stems(50, 100), 10, new int[][] {{50, 1}});
@@ -119,7 +128,8 @@ final class StemSentences extends Sentences {
         test("a left end that would lie left of the right end before", () ->
                 placesAre(stems(0, 10, 11, 12), 10, new int[][] {{0, 0}, {10, 1}, {11, 2}, {12, 3}}));
         test("four stems, each of which shoves the next one", () ->
-                placesAre(FOUR, 10, new int[][] {{20, 0}, {30, 1}, {31, 2}, {32, 3}, {33, 4}, {160, 5}, {700, 7}, {790, 8}}));
+                placesAre(FOUR, 10,
+                        new int[][] {{20, 0}, {30, 1}, {31, 2}, {32, 3}, {33, 4}, {160, 5}, {700, 7}, {790, 8}}));
         test("four stems on the smallest grid, each of which shoves the next one", () ->
                 placesAre(stems(0, 1, 2, 3, 4, 5, 6, 7), 6,
                         new int[][] {{0, 0}, {1, 1}, {2, 2}, {3, 3}, {4, 4}, {5, 5}, {6, 6}, {7, 7}, {8, 7}}));
@@ -141,12 +151,8 @@ final class StemSentences extends Sentences {
 
     private void descriptionOfOtherPlaces() {
         description("Grids");
-        sentence("The place of an x in a glyph on the grid is: for the left end of a stem, round(x * n / 1000), but at "
-                + "least one pixel more than the place of the right end of the stem before; for its right end, the place "
-                + "of its left end plus the rounded length of the stem, but at least 1; for any other x, round(x * n / "
-                + "1000) plus the place of the end of a stem that is nearest to it from the left minus the rounded value "
-                + "of this end; and only the rounded value if no stem has an end that is less than x.");
-        test("no stem has an end that is less: one unit left of the first one, farther left, and no stem at all", () -> {
+        sentence(PLACE);
+        test("no stem has an end that is less: left of the first one, by one unit and by more, and no stem", () -> {
             placesAre(FOUR, 10, new int[][] {{19, 0}, {-60, -1}, {-1000, -10}});
             placesAre(stems(51, 52), 10, new int[][] {{50, 1}, {51, 1}});
             placesAre(glyphs(1), 10, new int[][] {{19, 0}, {2000, 20}});
@@ -170,8 +176,8 @@ final class StemSentences extends Sentences {
 
     private void descriptionOfMiddles() {
         description("Pixels");
-        sentence("Pixel i,k of a grid of size n has its middle at the x (2 * i + 1) * 500 / n and the y (2 * k + 1) * 500 "
-                + "/ n, exactly.");
+        sentence("Pixel i,k of a grid of size n has its middle at the x (2 * i + 1) * 500 / n and the y (2 * k + "
+                + "1) * 500 / n, exactly.");
         // The middles of column and row 4 on a grid of 7 lie at 4500 / 7, which is 642.857..
         test("the y, between two units", () -> {
             pixelsAre(box(0, 643, 1000, 100), 7, new int[][] {{3, 4, 0}});
@@ -192,14 +198,13 @@ final class StemSentences extends Sentences {
             pixelsAre(box(0, -84, 1000, 100), 6, new int[][] {{0, -1, 1}, {0, -2, 0}});
             pixelsAre(box(0, -83, 1000, 100), 6, new int[][] {{0, -1, 0}});
         });
-        test("on the greatest grid", () -> pixelsAre(box(8, 25, 1, 9), 60, new int[][] {{0, 1, 1}, {0, 0, 0}, {1, 1, 0}}));
+        test("on the greatest grid", () ->
+                pixelsAre(box(8, 25, 1, 9), 60, new int[][] {{0, 1, 1}, {0, 0, 0}, {1, 1, 0}}));
     }
 
     private void descriptionOfBlack() {
         description("Pixels");
-        sentence("It is black if a ray from there to greater x crosses the contours of the glyph an odd number of times, "
-                + "where a side from x,y to u,v is crossed if the middle lies at y or above and below v, or at v or above "
-                + "and below y, and the point of the side at this height has an x greater than that of the middle.");
+        sentence(BLACK);
         // On a grid of 10 the middles lie at 50, 150, 250, ..
         test("a middle on the lower, upper, left and right edge of a box", () -> {
             pixelsAre(box(0, 50, 100, 50), 10, new int[][] {{0, 0, 1}});
@@ -220,7 +225,8 @@ final class StemSentences extends Sentences {
                 x.addContour(0, 200, 0, 800, 200);
                 x.addContour(0, 400, 0, 100, 100);
             });
-            pixelsAre(scene, 10, new int[][] {{0, 0, 1}, {2, 0, 0}, {4, 0, 1}, {5, 0, 0}, {4, 1, 0}, {4, 2, 1}, {4, 3, 0}});
+            pixelsAre(scene, 10,
+                    new int[][] {{0, 0, 1}, {2, 0, 0}, {4, 0, 1}, {5, 0, 0}, {4, 1, 0}, {4, 2, 1}, {4, 3, 0}});
         });
         test("contours of both directions are crossed the same way", () -> {
             pixelsAre(read("A(0,0 0,100 100,100 100,0)"), 10, new int[][] {{0, 0, 1}});
@@ -244,14 +250,14 @@ final class StemSentences extends Sentences {
 
     private void descriptionOfSlantedSides() {
         description("Pixels");
-        sentence("It is black if a ray from there to greater x crosses the contours of the glyph an odd number of times, "
-                + "where a side from x,y to u,v is crossed if the middle lies at y or above and below v, or at v or above "
-                + "and below y, and the point of the side at this height has an x greater than that of the middle.");
+        sentence(BLACK);
         test("the middle on a slanted side, of both slants and directions", () -> {
-            pixelsAre(read("A(0,0 300,0 0,300)"), 10, new int[][] {{0, 0, 1}, {1, 0, 1}, {2, 0, 0}, {1, 1, 0}, {0, 2, 0}});
-            pixelsAre(read("A(0,0 0,300 300,0)"), 10, new int[][] {{0, 0, 1}, {1, 0, 1}, {2, 0, 0}, {1, 1, 0}, {0, 2, 0}});
-            pixelsAre(read("A(0,0 300,0 300,300)"), 10, new int[][] {{0, 0, 1}, {1, 0, 1}, {2, 0, 1}, {1, 2, 0}, {2, 2, 1}});
-            pixelsAre(read("A(0,0 300,300 300,0)"), 10, new int[][] {{0, 0, 1}, {1, 0, 1}, {2, 0, 1}, {1, 2, 0}, {2, 2, 1}});
+            int[][] left = {{0, 0, 1}, {1, 0, 1}, {2, 0, 0}, {1, 1, 0}, {0, 2, 0}};
+            pixelsAre(read("A(0,0 300,0 0,300)"), 10, left);
+            pixelsAre(read("A(0,0 0,300 300,0)"), 10, left);
+            int[][] right = {{0, 0, 1}, {1, 0, 1}, {2, 0, 1}, {1, 2, 0}, {2, 2, 1}};
+            pixelsAre(read("A(0,0 300,0 300,300)"), 10, right);
+            pixelsAre(read("A(0,0 300,300 300,0)"), 10, right);
         });
         test("by less than a unit left and right of the middle", () -> {
             // The middle of pixel 1,1 on a grid of 7 lies at 1500 / 7, twice which is 428.57..
@@ -265,8 +271,10 @@ final class StemSentences extends Sentences {
             pixelsAre(read("A(0,0 214,0 215,751 0,751)"), 7, new int[][] {{1, 1, 0}});
         });
         test("as far as coordinates allow", () -> {
-            pixelsAre(read("A(-200,-200 1200,-200 1200,1200)"), 60, new int[][] {{71, 0, 1}, {0, 0, 1}, {0, 1, 0}, {1, 0, 1}});
-            pixelsAre(read("A(-200,-200 1200,1199 -200,1200)"), 60, new int[][] {{71, 71, 1}, {72, 71, 0}, {71, 70, 0}});
+            pixelsAre(read("A(-200,-200 1200,-200 1200,1200)"), 60,
+                    new int[][] {{71, 0, 1}, {0, 0, 1}, {0, 1, 0}, {1, 0, 1}});
+            pixelsAre(read("A(-200,-200 1200,1199 -200,1200)"), 60,
+                    new int[][] {{71, 71, 1}, {72, 71, 0}, {71, 70, 0}});
         });
         sentence("Stems do not matter for pixels.");
         test("stems that shove one another", () -> {
@@ -335,7 +343,8 @@ final class StemSentences extends Sentences {
         sentence("Throws `IndexOutOfBoundsException` if there is no such glyph");
         test("one beyond the last, -1, far ones, and 0 of none", () ->
                 needsGlyph((x, glyph) -> x.addStem(glyph, 100, 200)));
-        sentence("Throws `IllegalStateException` if the glyph has 4 stems or this one touches or overlaps one of them");
+        sentence("Throws `IllegalStateException` if the glyph has 4 stems or this one touches or overlaps one of "
+                + "them");
         test("it has 3, and 4", () -> {
             answers(3, stems(0, 1, 2, 3, 4, 5), x -> x.addStem(0, 900, 950));
             refuses(STATE, FOUR, x -> x.addStem(0, 900, 950), x -> x.addStem(0, -200, -100));
@@ -425,8 +434,8 @@ final class StemSentences extends Sentences {
         sentence("Returns the place of an x in a glyph on a grid.");
         test("with two stems, at all of their ends and beside them", () -> {
             // On a grid of 20: 0 to 2 (0.2, 1.6), 6 to 8 (6, 1.8).
-            placesAre(FURNISHED, 20, new int[][] {{9, 0}, {10, 0}, {11, 0}, {90, 2}, {91, 2}, {299, 6}, {300, 6}, {390, 8},
-                {391, 8}});
+            placesAre(FURNISHED, 20, new int[][] {{9, 0}, {10, 0}, {11, 0}, {90, 2}, {91, 2}, {299, 6}, {300, 6},
+                {390, 8}, {391, 8}});
         });
         sentence("`x`: the x, -1000 to 2000");
         test("-1000 and 2000, and no int beyond", () ->
@@ -459,8 +468,9 @@ final class StemSentences extends Sentences {
             takesOnly(-100, 100, ARGUMENT, FURNISHED, (x, column) -> bit(x.isBlack(0, 60, column, 3)));
             takesOnly(-100, 100, ARGUMENT, FURNISHED, (x, column) -> bit(x.isBlack(2, 6, column, 0)));
         });
-        test("-100 and 100 lie beside all contours, also on the greatest grid", () -> pixelsAre(box(-200, -200, 1400, 1400),
-                60, new int[][] {{-100, 0, 0}, {100, 0, 0}, {-12, 0, 1}, {-13, 0, 0}, {71, 0, 1}, {72, 0, 0}}));
+        test("-100 and 100 lie beside all contours, also on the greatest grid", () ->
+                pixelsAre(box(-200, -200, 1400, 1400), 60,
+                        new int[][] {{-100, 0, 0}, {100, 0, 0}, {-12, 0, 1}, {-13, 0, 0}, {71, 0, 1}, {72, 0, 0}}));
         sentence("`row`: the row k of the pixel, -100 to 100");
         test("-100 and 100, and no int beyond", () -> {
             takesOnly(-100, 100, ARGUMENT, FURNISHED, (x, row) -> bit(x.isBlack(0, 60, 3, row)));
@@ -525,7 +535,8 @@ final class StemSentences extends Sentences {
         test("without those that are crossed twice", () -> answers(34 * 34 - 24 * 24,
                 box(-200, -200, 1400, 1400).then(x -> x.addContour(0, 0, 0, 1000, 1000)), x -> x.blackPixels(0, 24)));
         sentence("Throws `IndexOutOfBoundsException` if there is no such glyph");
-        test("one beyond the last, -1, far ones, and 0 of none", () -> needsGlyph((x, glyph) -> x.blackPixels(glyph, 10)));
+        test("one beyond the last, -1, far ones, and 0 of none", () ->
+                needsGlyph((x, glyph) -> x.blackPixels(glyph, 10)));
         sentence("Throws `IllegalArgumentException` if the size is out of range");
         test("5 and 25, also of an empty glyph", () -> refuses(ARGUMENT, FURNISHED, x -> x.blackPixels(0, 5),
                 x -> x.blackPixels(0, 25), x -> x.blackPixels(2, 5), x -> x.blackPixels(2, 60)));
