@@ -203,6 +203,8 @@ final class AccountSentences extends Sentences {
             answers(0, FURNISHED.then(x -> x.setSide(1, 0, 1)), x -> x.account(3));
             Calls both = FURNISHED.then(x -> x.follow(2, 0, 2, 1, 0)).then(x -> x.follow(0, 1, 0, 0, 0));
             answers(3, both, x -> x.account(3));
+            Calls ends = glyphs(24).then(x -> x.follow(0, 0, 5, 0, 0)).then(x -> x.follow(23, 1, 5, 0, 0));
+            answers(2, ends, x -> x.account(3));
         });
         test("kerns of 0 count as kerns, and not as pairs whose kern is not 0", () -> {
             Calls zero = glyphs(2).then(x -> x.kernPair(0, 0, 0)).then(x -> x.kernClasses(0, 0, 0));
@@ -223,6 +225,18 @@ final class AccountSentences extends Sentences {
             answers(24 * 24, classed, x -> x.account(6));
             answers(24 * 24 - 1, classed.then(x -> x.kernPair(23, 23, 0)), x -> x.account(6));
             answers(1, classed, x -> x.account(4));
+        });
+        test("class 0 for no more glyphs than there are", () -> {
+            Calls zero = glyphs(3).then(x -> {
+                x.setClass(0, true, 0);
+                x.setClass(2, false, 0);
+                x.kernClasses(0, 0, 9);
+            });
+            answers(1, zero, x -> x.account(6));
+            Calls second = glyphs(24).then(x -> x.setClass(5, false, 0)).then(x -> x.kernClasses(0, 0, 9));
+            answers(0, second, x -> x.account(6));
+            Calls first = glyphs(24).then(x -> x.setClass(5, true, 0)).then(x -> x.kernClasses(0, 0, 9));
+            answers(0, first, x -> x.account(6));
         });
         test("the sum of advances can be below 0", () ->
                 answers(-50, glyphs(1).then(x -> x.setSide(0, 0, -100)), x -> x.account(8)));
@@ -251,6 +265,7 @@ final class AccountSentences extends Sentences {
             Calls fewer = read(THREE_CONTOURS).then(read("A(1,2 3,4 5,7)"));
             answersEach(numbers('A', 1, 3), fewer, (x, what) -> x.glyph(0, what));
             answersEach(numbers('A', 3, 9), fewer.then(read(THREE_CONTOURS)), (x, what) -> x.glyph(0, what));
+            answersEach(numbers(1, 2, 3, 4, 5, 7), fewer, (x, i) -> x.point(0, 0, i / 2, i % 2 == 1));
             answersEach(numbers('A', 1, 12), fewer.then(read(TWELVE_POINTS)), (x, what) -> x.glyph(0, what));
             Calls fewest = read(TWELVE_POINTS).then(read("A(1,2 3,4 5,7)"));
             answersEach(numbers('A', 1, 3), fewest, (x, what) -> x.glyph(0, what));
@@ -345,6 +360,15 @@ final class AccountSentences extends Sentences {
         test("9999 and -9999", () -> refusesText(STATE, scene, "z(9999,0 1,1 2,2)", "z(0,0 1,1 2,-9999)"));
         test("1200 and -200 do fit", () -> answers(0, typed("A(1200,-200 -200,1200 0,0)"), Designer::readGlyph));
         test("13 points", () -> refusesText(STATE, scene, THIRTEEN_POINTS, "z" + THIRTEEN_POINTS.substring(1)));
+        test("what comes after a text that did not fit, or had a fault, does fit", () -> {
+            String[] refused = {"A(0,0 1,1 2,2 9999,3)", "A(0,0 1,1 2,2 3,-9999)", THIRTEEN_POINTS, FOUR_CONTOURS,
+                "B(7,7 8,8 9999,9 "};
+            for (String text : refused) {
+                Calls fits = typed(text).thenTry(Designer::readGlyph).then(read("A(1,2 3,4 5,7)"));
+                answersEach(numbers('A', 1, 3), fits, (x, what) -> x.glyph(0, what));
+                answersEach(numbers(1, 2, 3, 4, 5, 7), fits, (x, i) -> x.point(0, 0, i / 2, i % 2 == 1));
+            }
+        });
         test("12 points do fit", () -> answers(0, typed(TWELVE_POINTS), Designer::readGlyph));
         test("4 contours", () -> refusesText(STATE, scene, FOUR_CONTOURS, "z" + FOUR_CONTOURS.substring(1)));
         test("3 contours do fit, though the glyph has 3 already", () ->

@@ -274,6 +274,11 @@ final class BearingSentences extends Sentences {
             });
             answers(47, star, x -> x.followers(0, 0));
         });
+        test("the first and the last of 48 sidebearings, as those that follow", () -> {
+            Calls ends = glyphs(24).then(rule(0, 0, 11, 1, 0)).then(rule(23, 1, 0, 0, 0));
+            answers(2, ends, x -> x.followers(11, 1));
+            answers(1, ends, x -> x.followers(0, 0));
+        });
         test("after a rule has ended", () -> {
             answers(0, FURNISHED.then(told(1, 0, 70)), x -> x.followers(0, 0));
             answers(23, CHAIN.then(told(12, 0, 7)), x -> x.followers(0, 0));

@@ -446,6 +446,11 @@ final class ChangeSentences extends Sentences {
             answers(0, emptied, x -> x.account(0));
             answers(23, emptied.then(glyphs(23)), x -> x.addGlyph('z'));
         });
+        test("the codes, though other glyphs came in their place", () -> {
+            Calls other = changes(2).then(Designer::save).then(undone(2)).then(changesAfter('a', 2));
+            answers('A', other.then(Designer::restore), x -> x.glyph(0, 0));
+            answers(1, other.then(Designer::restore), x -> x.find('B'));
+        });
         test("a glyph that was added after save is gone, with its code", () ->
                 refuses(MISSING, changes(2).then(Designer::save).then(changesAfter('a', 1)).then(Designer::restore),
                         x -> x.find('a')));

@@ -1,5 +1,7 @@
 /** Counts tests and what they find wrong. */
 final class Checks {
+    private static final int MOST_FAULTS = 500;
+
     private String test = "";
     private int tests = 0;
     private int wrong = 0;
@@ -18,6 +20,9 @@ final class Checks {
     void fault(String text) {
         wrong++;
         System.out.println(test + ": " + text);
+        if (wrong >= MOST_FAULTS) {
+            end();
+        }
     }
 
     int wrong() {

@@ -11,6 +11,16 @@ final class GlyphSentences extends Sentences {
         x.addContour(1, -200, -200, 1400, 1400);
     });
 
+    /** Three glyphs of three boxes each: what is beside a glyph's first or last contour is one of another glyph. */
+    private static final Calls NEIGHBOURS = glyphs(3).then(x -> {
+        for (int i = 0; i < 9; i++) {
+            x.addContour(i / 3, 100 + 10 * i, 200 + 10 * i, 100 - i, 50 + i);
+        }
+    });
+    /** A contour of three points in the place of one of twelve points. */
+    private static final Calls FEWER = read("A(-9,-9 1,1 -8,2 33,3 44,4 5,55 6,66 7,7 8,8 9,9 0,1 0,2)")
+            .then(read("A(5,5 20,5 5,20)"));
+
     GlyphSentences(Checks checks, Quotes quotes) {
         super(checks, quotes);
     }
@@ -138,6 +148,10 @@ final class GlyphSentences extends Sentences {
             answers(-7, scene, x -> x.glyph(0, 3));
             answers(22, scene, x -> x.glyph(0, 4));
         });
+        test("points of the glyphs before and behind do not count, nor those that a text has taken away", () -> {
+            answersEach(numbers(130, 245), NEIGHBOURS, (x, i) -> x.glyph(1, 3 + i));
+            answersEach(numbers(5, 20), FEWER, (x, i) -> x.glyph(0, 3 + i));
+        });
         test("y does not count", () -> {
             answers(50, box(50, -100, 10, 900), x -> x.glyph(0, 3));
             answers(60, box(50, -100, 10, 900), x -> x.glyph(0, 4));
@@ -162,6 +176,7 @@ final class GlyphSentences extends Sentences {
             answers(0, read("A(0,0 10,10 10,0 0,10)"), x -> x.area(0, 0));
         });
         test("the greatest box", () -> answers(2 * 1400 * 1400, TRIANGLE, x -> x.area(1, 0)));
+        test("points that a text has taken away do not count", () -> answers(225, FEWER, x -> x.area(0, 0)));
     }
 
     // ---- promises 1 and 2 ----
@@ -393,6 +408,8 @@ final class GlyphSentences extends Sentences {
                 needsGlyph((x, glyph) -> x.movePoint(glyph, 0, 0, 1, 1)));
         test("contours 0 and 1 of two, and no other one", () ->
                 takesOnly(0, 1, INDEX, FURNISHED, (x, contour) -> x.movePoint(0, contour, 0, 1, 1)));
+        test("contours 0 to 2 of three, between glyphs with three, and no other one", () ->
+                takesOnly(0, 2, INDEX, NEIGHBOURS, (x, contour) -> x.movePoint(1, contour, 3, 1, 1)));
         test("contour 0 of an empty glyph", () -> refuses(INDEX, FURNISHED, x -> x.movePoint(2, 0, 0, 1, 1)));
         test("points 0 to 2 of a triangle, and no other one", () ->
                 takesOnly(0, 2, INDEX, TRIANGLE, (x, point) -> x.movePoint(0, 0, point, 1, 1)));
@@ -428,6 +445,15 @@ final class GlyphSentences extends Sentences {
             answersEach(numbers(10, 90, 300, 390), shifted, (x, i) -> x.stem(0, i / 2, i % 2 == 1));
             answersEach(numbers(20, 30), shifted, (x, i) -> x.point(1, 0, 0, i == 1));
         });
+        test("the glyphs before and behind stay, also if all have three contours", () -> {
+            Calls shifted = NEIGHBOURS.then(x -> x.shift(1, 7, 8));
+            for (int i = 0; i < 9; i++) {
+                int contour = i;
+                answers(100 + 10 * i + (i / 3 == 1 ? 7 : 0), shifted, x -> x.point(contour / 3, contour % 3, 0, false));
+                answers(200 + 10 * i + (i / 3 == 1 ? 8 : 0), shifted, x -> x.point(contour / 3, contour % 3, 0, true));
+            }
+        });
+        test("points that a text has taken away do not count", () -> answers(6, FEWER, x -> x.shift(0, 1, 1180)));
         sentence("Returns the left edge then, 0 for an empty glyph.");
         test("the least x of all contours", () -> {
             answers(1, TWELVE, x -> x.shift(0, 4, 0));
@@ -525,6 +551,11 @@ final class GlyphSentences extends Sentences {
             answers(3, TWELVE, x -> x.glyph(0, 1));
             answers(20, TWELVE, x -> x.glyph(0, 2));
         });
+        test("of a glyph between others with three contours", () -> {
+            answersEach(numbers('B', 3, 12, 130, 245), NEIGHBOURS, (x, what) -> x.glyph(1, what));
+            answers(2 * (97 * 53 + 96 * 54 + 95 * 55), NEIGHBOURS, x -> x.glyph(1, 9));
+            answers(0, NEIGHBOURS.then(glyph('D')), x -> x.glyph(3, 9));
+        });
         sentence("Returns the number.");
         test("of the last of 24 glyphs", () ->
                 answersEach(numbers('X', 1, 4, 0, 100, 200, -1, -1, 1, 20000), FULL, (x, what) -> x.glyph(23, what)));
@@ -577,7 +608,7 @@ final class GlyphSentences extends Sentences {
                 needsGlyph((x, glyph) -> x.points(glyph, 0)));
         test("contours 0 and 1 of two, 0 to 2 of three, and no other one", () -> {
             takesOnly(0, 1, INDEX, FURNISHED, (x, contour) -> x.points(0, contour));
-            takesOnly(0, 2, INDEX, TWELVE, (x, contour) -> x.points(0, contour));
+            takesOnly(0, 2, INDEX, NEIGHBOURS, (x, contour) -> x.points(1, contour));
         });
         test("contour 0 of an empty glyph", () -> refuses(INDEX, FURNISHED, x -> x.points(2, 0)));
         test("a contour that a text has taken away", () ->
@@ -605,6 +636,8 @@ final class GlyphSentences extends Sentences {
                 needsGlyph((x, glyph) -> x.point(glyph, 0, 0, true)));
         test("contours 0 and 1 of two, and no other one", () ->
                 takesOnly(0, 1, INDEX, FURNISHED, (x, contour) -> x.point(0, contour, 0, true)));
+        test("contours 0 to 2 of three, between glyphs with three, and no other one", () ->
+                takesOnly(0, 2, INDEX, NEIGHBOURS, (x, contour) -> x.point(1, contour, 3, false)));
         test("contour 0 of an empty glyph", () -> refuses(INDEX, FURNISHED, x -> x.point(2, 0, 0, false)));
         test("points 0 to 2 of a triangle, 0 to 3 of a box, 0 to 11 of twelve, and no other one", () -> {
             takesOnly(0, 2, INDEX, TRIANGLE, (x, point) -> x.point(0, 0, point, false));
@@ -632,8 +665,10 @@ final class GlyphSentences extends Sentences {
         });
         sentence("Throws `IndexOutOfBoundsException` if there is no such glyph or contour");
         test("a glyph beyond the last, -1, far ones, and 0 of none", () -> needsGlyph((x, glyph) -> x.area(glyph, 0)));
-        test("contours 0 and 1 of two, and no other one", () ->
-                takesOnly(0, 1, INDEX, FURNISHED, (x, contour) -> x.area(0, contour)));
+        test("contours 0 and 1 of two, 0 to 2 of three, and no other one", () -> {
+            takesOnly(0, 1, INDEX, FURNISHED, (x, contour) -> x.area(0, contour));
+            takesOnly(0, 2, INDEX, NEIGHBOURS, (x, contour) -> x.area(1, contour));
+        });
         test("contour 0 of an empty glyph", () -> refuses(INDEX, FURNISHED, x -> x.area(2, 0)));
     }
 }

@@ -345,6 +345,13 @@ final class KernSentences extends Sentences {
             answers(0, ALL_CLASSES, x -> x.kern(0, 0));
         });
         sentence("Returns the kern.");
+        test("each number from -300 to 300, of glyphs and of classes", () -> {
+            for (int i = -300; i <= 300; i++) {
+                int kern = i;
+                answers(kern, glyphs(1).then(pair(0, 0, kern)), x -> x.kern(0, 0));
+                answers(kern, glyphs(1).then(into(0, 5, 0)).then(classes(5, 0, kern)), x -> x.kern(0, 0));
+            }
+        });
         test("-300 and 300, of glyphs and of classes", () -> {
             answers(-300, glyphs(1).then(pair(0, 0, -300)), x -> x.kern(0, 0));
             answers(300, glyphs(1).then(pair(0, 0, 300)), x -> x.kern(0, 0));
@@ -366,6 +373,13 @@ final class KernSentences extends Sentences {
         test("3, also if both are 0", () -> {
             answers(3, FURNISHED, x -> x.why(0, 1));
             answers(3, classed.then(classes(0, 5, 0)).then(pair(0, 1, 0)), x -> x.why(0, 1));
+        });
+        test("2 and 1 for each number from -300 to 300", () -> {
+            for (int i = -300; i <= 300; i++) {
+                int kern = i;
+                answers(2, classed.then(pair(0, 1, kern)), x -> x.why(0, 1));
+                answers(1, classed.then(classes(0, 5, kern)), x -> x.why(0, 1));
+            }
         });
         test("2, also if it is 0", () -> {
             answers(2, FURNISHED, x -> x.why(1, 0));

@@ -51,6 +51,7 @@ abstract class Sentences {
         x.setProof(10, 300);
     }).then(typed("B(")).thenTry(Designer::readGlyph).then(proof("AB A")).then(typed("BA"));
 
+    private static final int BESIDE = 4;
     private static final int[] STRANGE = {MIN, MIN + 1, -65536, -256, -1, 0, 1, 256, 65536, MAX - 1, MAX};
 
     private final Checks checks;
@@ -161,12 +162,14 @@ abstract class Sentences {
 
     /** Numbers beside the ends, far ones, and some that a cast to a byte or a short would take for right ones. */
     private static int[] strangeNumbers(int least, int greatest) {
-        int[] numbers = new int[2 + STRANGE.length * 2];
-        numbers[0] = least - 1;
-        numbers[1] = greatest + 1;
+        int[] numbers = new int[2 * BESIDE + 2 * STRANGE.length];
+        for (int i = 0; i < BESIDE; i++) {
+            numbers[2 * i] = least - 1 - i;
+            numbers[2 * i + 1] = greatest + 1 + i;
+        }
         for (int i = 0; i < STRANGE.length; i++) {
-            numbers[2 + 2 * i] = STRANGE[i];
-            numbers[3 + 2 * i] = STRANGE[i] + least;
+            numbers[2 * BESIDE + 2 * i] = STRANGE[i];
+            numbers[2 * BESIDE + 2 * i + 1] = STRANGE[i] + least;
         }
         return numbers;
     }

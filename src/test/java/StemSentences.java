@@ -99,6 +99,10 @@ final class StemSentences extends Sentences {
                 takesOnly(6, 60, ARGUMENT, FURNISHED, (x, size) -> x.place(0, size, 500)));
         test("halves, and one unit less", () ->
                 placesAre(glyphs(1), 10, new int[][] {{50, 1}, {49, 0}, {150, 2}, {149, 1}, {0, 0}, {250, 3}}));
+        test("the least part less than a half, which is 499 of 1000", () -> {
+            placesAre(glyphs(1), 7, new int[][] {{357, 2}, {-643, -5}});
+            placesAre(glyphs(1), 19, new int[][] {{-79, -2}, {21, 0}});
+        });
         test("halves below 0, and one unit less", () -> placesAre(glyphs(1), 10,
                 new int[][] {{-50, 0}, {-51, -1}, {-49, 0}, {-150, -1}, {-151, -2}, {-250, -2}}));
         test("on the smallest and on the greatest grid", () -> {
@@ -158,7 +162,8 @@ final class StemSentences extends Sentences {
             placesAre(glyphs(1), 10, new int[][] {{19, 0}, {2000, 20}});
         });
         test("a left end is nearest: inside a stem, from one unit right of it to one unit left of its right end", () ->
-                placesAre(FOUR, 10, new int[][] {{21, 0}, {29, 0}, {34, 4}, {49, 4}, {50, 5}, {150, 6}, {159, 6}}));
+                placesAre(FOUR, 10, new int[][] {{21, 0}, {29, 0}, {34, 4}, {49, 4}, {50, 5}, {150, 6}, {159, 6},
+                    {701, 7}, {750, 8}, {789, 8}}));
         test("a right end is nearest: behind a stem, from one unit right of it to one unit left of the next one", () ->
                 placesAre(FOUR, 10, new int[][] {{161, 5}, {249, 5}, {250, 6}, {699, 10}}));
         test("a right end is nearest: behind the last one", () ->
@@ -190,6 +195,12 @@ final class StemSentences extends Sentences {
             pixelsAre(box(642, 0, 100, 1000), 7, new int[][] {{4, 3, 1}});
             pixelsAre(box(543, 0, 100, 1000), 7, new int[][] {{4, 3, 1}});
             pixelsAre(box(542, 0, 100, 1000), 7, new int[][] {{4, 3, 0}});
+        });
+        test("a corner less than a unit above and below the middle", () -> {
+            pixelsAre(read("A(500,643 1000,1000 0,1000)"), 7, new int[][] {{1, 4, 0}, {2, 4, 0}});
+            pixelsAre(read("A(500,642 1000,0 0,0)"), 7, new int[][] {{1, 4, 0}, {2, 4, 0}});
+            pixelsAre(read("A(500,642 1000,1000 0,1000)"), 7, new int[][] {{2, 4, 0}, {3, 4, 1}});
+            pixelsAre(read("A(500,643 1000,0 0,0)"), 7, new int[][] {{2, 4, 0}, {3, 4, 1}});
         });
         test("below 0", () -> {
             // The middle of -1 on a grid of 6 lies at -83.33..
@@ -244,8 +255,20 @@ final class StemSentences extends Sentences {
             pixelsAre(read("A(0,0 60,0 60,50 100,50 100,100 0,100)"), 10, new int[][] {{0, 0, 1}});
         });
         test("an empty glyph is never crossed", () -> pixelsAre(glyphs(1), 10, new int[][] {{0, 0, 0}, {-1, 3, 0}}));
-        test("a contour of another glyph does not matter", () ->
-                answers(0, FURNISHED, x -> bit(x.isBlack(2, 10, 1, 1))));
+        test("a contour of another glyph does not matter, nor points that a text has taken away", () -> {
+            answers(0, FURNISHED, x -> bit(x.isBlack(2, 10, 1, 1)));
+            Calls between = glyphs(3).then(x -> {
+                for (int i = 0; i < 9; i++) {
+                    x.addContour(i / 3, 100 * i, 0, 100, 100);
+                }
+            });
+            for (int i = 0; i < 9; i++) {
+                int column = i;
+                answers(i / 3 == 1 ? 1 : 0, between, x -> bit(x.isBlack(1, 10, column, 0)));
+            }
+            pixelsAre(read("A(0,0 0,0 0,0 900,0 900,900 0,900)").then(read("A(0,0 300,0 0,300)")), 10,
+                    new int[][] {{0, 0, 1}, {3, 3, 0}, {0, 4, 0}, {1, 0, 1}});
+        });
     }
 
     private void descriptionOfSlantedSides() {
@@ -411,6 +434,15 @@ final class StemSentences extends Sentences {
         });
         sentence("`isRight`: whether the right end is asked for");
         test("both", () -> answersEach(numbers(300, 390), FURNISHED, (x, i) -> x.stem(0, 1, i == 1)));
+        test("both of the fourth stem of the last of 24 glyphs", () -> {
+            Calls four = FULL.then(x -> {
+                x.addStem(23, 30, 40);
+                x.addStem(23, 50, 60);
+                x.addStem(23, 70, 80);
+            });
+            answersEach(numbers(10, 20, 30, 40, 50, 60, 70, 80), four, (x, i) -> x.stem(23, i / 2, i % 2 == 1));
+            answersEach(numbers(10, 20), four, (x, i) -> x.stem(22, 0, i == 1));
+        });
         sentence("Returns its x.");
         test("of four stems", () -> answersEach(numbers(20, 30, 31, 32, 33, 160, 700, 790), FOUR,
                 (x, i) -> x.stem(0, i / 2, i % 2 == 1)));
