@@ -1424,7 +1424,8 @@ public final class TypeDesigner {
         int leastMeasureFor(int most) {
             int measure = 1;
             // Kerns and bearings can be negative, so a greater measure can give more lines: all measures
-            // count. But between two widths that are refused, all measures give the same lines.
+            // count. But between two widths that are refused, all measures give the same lines. Each width
+            // is that of a line from one word to another, so there are fewer than pairs of signs.
             for (int step = 0; step < MAX_TEXT * MAX_TEXT && measure <= MAX_MEASURE; step++) {
                 breakLines(measure);
                 if (lines <= most) {

@@ -1,3 +1,7 @@
+import java.util.Arrays;
+import java.util.List;
+import java.util.stream.Collectors;
+
 /** The sentences on proofs: promises 27 to 34. */
 final class ProofSentences extends Sentences {
     /** Glyphs A and B with advances of 500 and 400 and the kern -40 of A and B. */
@@ -503,6 +507,20 @@ final class ProofSentences extends Sentences {
         return true;
     }
 
+    /** A proof of words of one glyph each; the widths, from 101 to 1850, are at most 24 different ones. */
+    private static Calls ofWidths(int... widths) {
+        List<Integer> different = Arrays.stream(widths).distinct().boxed().collect(Collectors.toList());
+        String text = Arrays.stream(widths).mapToObj(width -> "" + (char) ('A' + different.indexOf(width)))
+                .collect(Collectors.joining(" "));
+        return glyphs(different.size()).then(x -> {
+            for (int glyph = 0; glyph < different.size(); glyph++) {
+                int box = Math.min(different.get(glyph) - 100, 1400);
+                x.addContour(glyph, -200, 0, box, 1);
+                x.setSide(glyph, 0, different.get(glyph) - box - 50);
+            }
+        }).then(proof(text));
+    }
+
     private void leastMeasureOfOddWidths() {
         promise(34);
         sentence("Returns the least measure with which the proof has at most a number of lines.");
@@ -518,6 +536,15 @@ final class ProofSentences extends Sentences {
             eachIs(scene, new int[][] {{499, 3}, {500, 2}, {749, 2}, {750, 3}, {849, 3}, {850, 2}, {1649, 2},
                 {1650, 1}}, Designer::lines);
             eachIs(scene, new int[][] {{1, 1650}, {2, 500}, {3, 1}}, Designer::leastMeasure);
+        });
+        test("of 30 words which measures break into lines in more than 200 ways", () -> {
+            // The space of 50 and two trackings of -100 take 150 away between two words.
+            int[] widths = {1552, 1571, 598, 1557, 162, 1552, 1269, 272, 162, 1557, 1229, 1552, 357, 898, 659, 1214,
+                176, 1188, 449, 659, 256, 256, 176, 162, 162, 153, 153, 151, 151, 151};
+            Calls scene = ofWidths(widths).then(set(-100, 50));
+            int all = Arrays.stream(widths).sum() - 29 * 150;
+            eachIs(scene, new int[][] {{1, 30}, {all - 1, 2}, {all, 1}}, Designer::lines);
+            eachIs(scene, new int[][] {{1, all}, {30, 1}}, Designer::leastMeasure);
         });
         sentence("Returns the least measure, at least 1.");
         test("without a proof and without words", () -> {
